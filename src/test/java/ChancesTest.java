@@ -42,6 +42,8 @@ public final class ChancesTest {
         channel(1, 1, 4, 3, 1, 7, 10);
         channel(8, 8, 4, 3, 1, 3, 5);
         channel(4, 4, 2, 3, 2, 37, 100);
+        channel(8, 8, 4, 3, 2, 12, 25);
+        channel(1, 1, 4, 3, 2, 61, 100);
         channel(4, 5, 2, 3, 2, 3, 10);
         channel(1, 6, 0, 10, 5, 1, 1);
         channel(1, 7, 0, 10, 5, 0, 1);
@@ -121,6 +123,11 @@ public final class ChancesTest {
         String later = "B0333333330" + "40" + "1" + "0" + "W30";
         wind(later, 37, 0, 10, 1, 1);
         wind(later, 38, 0, 10, 0, 1);
+        // Bare two steps ahead of LOW: by LOW 39 just over, by LOW 40 no more.
+        wind("B0222222220" + "40" + "1" + "0" + "W30", 37, 0, 10, 0, 1);
+        wind("B0222222220" + "40" + "1" + "0" + "W30", 37, 10, 0, 1, 1);
+        wind("B0222222220" + "39" + "1" + "0" + "W30", 37, 0, 10, 0, 1);
+        wind("B0222222220" + "39" + "1" + "0" + "W30", 37, 0, 3, 7, 10);
     }
 
     private static void windRefused() {

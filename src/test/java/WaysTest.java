@@ -16,6 +16,7 @@ public final class WaysTest {
         latest();
         safest();
         safestOfLikeOnes();
+        safestAtTheLast();
         safestRefused();
         shells();
         cut();
@@ -100,6 +101,9 @@ public final class WaysTest {
         due("latest(0)", y.latest(0), 31);
         due("latest(1)", y.latest(1), 35);
         due("latest(2)", y.latest(2), 37);
+        // 3, 5, 7 at 3 where it is just 3 deep, 9; a step later it is 4 deep there.
+        OverSands z = Check.bayOf("B0000000000" + "00" + "1" + "0" + "W33");
+        due("latest(0): only at once", z.latest(0), 0);
     }
 
     private static void safest() {
@@ -143,6 +147,25 @@ public final class WaysTest {
         due("safest(0, 1)", x.safest(0, 1), 0);
     }
 
+    private static void safestAtTheLast() {
+        OverSands x = Check.bayOf(BARE + "W10W10W20");
+        x.head(0, 1);
+        Check.steps(x, 8);
+        x.head(0, 0);
+        Check.steps(x, 30);
+        x.head(1, 1);
+        x.step();
+        due("safest(0, 0) on CELL 8 at 39: over at 40", x.safest(0, 0), 1);
+        due("safest(0, 1)", x.safest(0, 1), 0);
+        due("safest(1, 0) on CELL 1 at 39: back at 40", x.safest(1, 0), 2);
+        due("safest(1, 1)", x.safest(1, 1), 1);
+        x.head(1, 0);
+        x.step();
+        due("safest(0, 0) on CELL 8 at 40", x.safest(0, 0), 0);
+        due("safest(1, 1) on CELL 1 at 40", x.safest(1, 1), NONE);
+        due("safest(2, 0) on the shore at 40", x.safest(2, 0), 2);
+    }
+
     private static void safestRefused() {
         OverSands x = Check.bayOf(BARE + "W30");
         due("safest(1, 0)", x.safest(1, 0), OverSands.UNKNOWN);
@@ -172,6 +195,12 @@ public final class WaysTest {
         due("shells(0): it is DROWNED", x.shells(0), OverSands.LATE);
         due("shells(2)", x.shells(2), OverSands.UNKNOWN);
         due("shells(-1)", x.shells(-1), OverSands.UNKNOWN);
+        // From CELL 8 one comes over however deep it is: it is standing that drowns, at 26.
+        OverSands v = Check.bayOf(TIDE + "W35");
+        Check.steps(v, 18);
+        v.head(0, 1);
+        Check.steps(v, 3);
+        due("shells(0) on CELL 8 at 21", v.shells(0), 4);
         OverSands y = Check.bayOf(BARE + "W10W20W10" + "S2");
         y.head(0, 1);
         y.head(1, 1);
@@ -224,6 +253,16 @@ public final class WaysTest {
         w.head(0, 1);
         w.step();
         due("cut(0): CELL 1 behind is deep at 9", w.cut(0), 9);
+        OverSands last = Check.bayOf("B0000000000" + "34" + "1" + "0" + "W35W20");
+        Check.steps(last, 29);
+        last.head(0, 1);
+        last.step();
+        due("cut(0): CELLS are 6 deep at 40", last.cut(0), 40);
+        OverSands not = Check.bayOf("B0000000000" + "35" + "1" + "0" + "W35");
+        Check.steps(not, 30);
+        not.head(0, 1);
+        not.step();
+        due("cut(0): CELLS are 5 deep at 40", not.cut(0), NONE);
     }
 
     private static void judged() {
@@ -285,6 +324,12 @@ public final class WaysTest {
         Check.steps(x, 30);
         due("ahead(), whatever there is now", x.ahead(), 22);
         due("aheadOf(0), whatever there is now", x.aheadOf(0), 18);
+        OverSands turned = Check.bayOf(TIDE + "W25W35");
+        due("ahead(), by other numbers", turned.ahead(), 22);
+        due("aheadOf(0), by other numbers", turned.aheadOf(0), 15);
+        OverSands last = Check.bayOf("B0333333330" + "40" + "1" + "0" + "W30");
+        due("ahead() at the last", last.ahead(), 40);
+        due("aheadOf(0) at the last", last.aheadOf(0), 37);
         OverSands one = Check.bayOf(TIDE + "W35");
         due("ahead() of one", one.ahead(), 19);
         due("aheadOf(0) of one", one.aheadOf(0), 15);
@@ -335,6 +380,24 @@ public final class WaysTest {
         w.head(0, 0);
         w.step();
         due("saved(): who is STUCK does not go up", w.saved(), 0);
+        savedAtTheLast();
+    }
+
+    /** At 40 nobody goes any more: but for towers, all that are on the sands are lost. */
+    private static void savedAtTheLast() {
+        OverSands x = Check.bayOf(BARE + "W10W10W10W10W10" + "T11T81");
+        for (int walker = 0; walker < 2; walker++) x.head(walker, 1);
+        Check.steps(x, 8);
+        for (int walker = 0; walker < 2; walker++) x.head(walker, 0);
+        for (int walker = 2; walker < 4; walker++) x.head(walker, 1);
+        x.step();
+        for (int walker = 2; walker < 4; walker++) x.head(walker, 0);
+        due("saved() at 9", x.saved(), 5);
+        Check.steps(x, 31);
+        due("about(2)", x.about(2), 40);
+        due("saved() at 40: one on CELL 8, one on CELL 1, one on the shore", x.saved(), 3);
+        x.climb(2);
+        due("saved() at 40, with CELL 1 full", x.saved(), 3);
     }
 
     private static void nothingIsChanged() {
