@@ -198,25 +198,29 @@ public final class ActsTest {
         due("climb(2): DROWNED is told ahead of FULL", x.climb(2), OverSands.LATE);
     }
 
+    private static final String UNDONE = "B9999999999" + "00" + "1" + "0" + "W30W20" + "T31";
+
+    /** A new object with so many acts: of each kind one, and more. */
+    private static OverSands afterActs(int acts) {
+        OverSands x = Check.bayOf(UNDONE);
+        if (acts > 0) x.head(0, 1);
+        if (acts > 1) x.step();
+        if (acts > 2) x.climb(0);
+        if (acts > 3) x.head(1, 1);
+        if (acts > 4) x.step();
+        return x;
+    }
+
     private static void undo() {
-        OverSands x = Check.bayOf("B9999999999" + "00" + "1" + "0" + "W30W20" + "T31");
-        String[] seen = new String[6];
-        seen[0] = Check.seen(x);
-        x.head(0, 1);
-        seen[1] = Check.seen(x);
-        x.step();
-        seen[2] = Check.seen(x);
-        x.climb(0);
-        seen[3] = Check.seen(x);
-        x.head(1, 1);
-        seen[4] = Check.seen(x);
-        Check.steps(x, 1);
         for (int left = 4; left >= 0; left--) {
-            due("undo()", x.undo(), left);
-            CHECK.holds("it is as ahead of ACT " + left, seen[left].equals(Check.seen(x)));
+            OverSands x = afterActs(5);
+            for (int k = 4; k >= left; k--) due("undo()", x.undo(), k);
+            CHECK.holds("it is as ahead of ACT " + left, Check.seen(afterActs(left)).equals(Check.seen(x)));
         }
+        OverSands x = afterActs(5);
+        for (int k = 4; k >= 0; k--) x.undo();
         due("undo() of none", x.undo(), OverSands.LATE);
-        CHECK.holds("a refused undo changes nothing", seen[0].equals(Check.seen(x)));
+        CHECK.holds("a refused undo changes nothing", Check.seen(afterActs(0)).equals(Check.seen(x)));
         x.head(0, 1);
         x.step();
         due("undo()", x.undo(), 1);

@@ -182,18 +182,18 @@ public final class BayTest {
     }
 
     private static void bayWithAFault() {
-        OverSands x = Check.bayOf("B1234567890" + "07" + "2" + "1" + "W31S2T43");
-        x.head(0, 1);
-        x.step();
-        x.keep(1);
         String[] texts = {"", "B", BARE + "W", BARE + "W20T55", "C" + BARE.substring(1), BARE + "S1S1"};
         for (String text : texts) {
+            OverSands x = Check.bayOf("B1234567890" + "07" + "2" + "1" + "W31S2T43");
+            x.head(0, 1);
+            x.step();
+            x.keep(1);
             Check.tell(x, text);
             String before = Check.seen(x);
             due("bay() of " + text, x.bay(), OverSands.LATE);
             CHECK.holds("a refused bay changes nothing: " + text, before.equals(Check.seen(x)));
+            due("again(1): still kept", x.again(1), 1);
         }
-        due("again(1): still kept", x.again(1), 1);
     }
 
     private static void about() {

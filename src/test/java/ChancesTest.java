@@ -163,9 +163,9 @@ public final class ChancesTest {
 
     /** On bare sands by pace 1: a row of draws, there and back. */
     private static void fogDraws() {
-        OverSands x = Check.bayOf(BARE + "W10");
         due("the first draw", after(0L), 1442695040888963407L);
         for (long begin = -60; begin <= 60; begin++) {
+            OverSands x = Check.bayOf(BARE + "W10");
             for (int m = 1; m <= 20; m++) {
                 long seed = begin * 1234567890123L;
                 x.seed(seed);

@@ -2,7 +2,8 @@ import java.util.Random;
 
 /** Long runs of calls by chance, the same each time, on OverSands and on PlainModel: all answers are alike. */
 public final class ModelTest {
-    private static final int RUNS = 1500, CALLS = 511;
+    /** The last look asks three at once: so 510 keeps within the 512 calls for which an object is good. */
+    private static final int RUNS = 1500, CALLS = 510;
     private static final int[] WILD = {-1, -2, 10, 11, 41, 56, 255, 256, 1000, Integer.MAX_VALUE, Integer.MIN_VALUE, Integer.MAX_VALUE - 1};
     private static final String[] METHODS = {
         "write", "wipe", "fault", "bay", "about", "cell", "walker", "deep", "head", "step", "climb", "undo", "gone", "latest",
