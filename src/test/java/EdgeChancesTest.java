@@ -112,11 +112,21 @@ public final class EdgeChancesTest {
     private static void channelBad() {
         Run r = run("channel: BAD: c, d (1 .. 8), a, b, n").bay(DRY + "W10");
         String[] outside = {"0", "9", "-1", "10", "MIN", "MAX"};
-        for (String c : outside) r.still("channel(" + c + ", 1, 0, 0, 0, true)", BAD).still("channel(1, " + c + ", 0, 0, 0, false)", BAD).still("channel(8, " + c + ", 5, 5, 5, true)", BAD);
-        for (String a : new String[] {"-1", "11", "MIN", "MAX"}) r.still("channel(4, 4, " + a + ", 0, 1, true)", BAD).still("channel(4, 4, 0, " + a + ", 1, false)", BAD).still("channel(4, 4, " + a + ", " + a + ", 0, true)", BAD);
-        r.still("channel(4, 4, 5, 6, 1, true)", BAD).still("channel(4, 4, 10, 1, 1, true)", BAD).still("channel(4, 4, 1, 10, 1, true)", BAD).still("channel(4, 4, 10, 10, 1, true)", BAD);
-        r.still("channel(4, 4, 11, -1, 1, true)", BAD).still("channel(4, 4, -1, 11, 1, true)", BAD).still("channel(4, 4, MAX, 1, 1, true)", BAD).still("channel(4, 4, MIN, MAX, 1, true)", BAD);
-        for (String n : new String[] {"-1", "6", "MIN", "MAX"}) r.still("channel(4, 4, 2, 3, " + n + ", true)", BAD).still("channel(4, 4, 0, 0, " + n + ", false)", BAD);
+        for (String c : outside) {
+            r.still("channel(" + c + ", 1, 0, 0, 0, true)", BAD).still("channel(1, " + c + ", 0, 0, 0, false)", BAD)
+                .still("channel(8, " + c + ", 5, 5, 5, true)", BAD);
+        }
+        for (String a : new String[] {"-1", "11", "MIN", "MAX"}) {
+            r.still("channel(4, 4, " + a + ", 0, 1, true)", BAD).still("channel(4, 4, 0, " + a + ", 1, false)", BAD)
+                .still("channel(4, 4, " + a + ", " + a + ", 0, true)", BAD);
+        }
+        r.still("channel(4, 4, 5, 6, 1, true)", BAD).still("channel(4, 4, 10, 1, 1, true)", BAD).still("channel(4, 4, 1, 10, 1, true)", BAD)
+            .still("channel(4, 4, 10, 10, 1, true)", BAD);
+        r.still("channel(4, 4, 11, -1, 1, true)", BAD).still("channel(4, 4, -1, 11, 1, true)", BAD).still("channel(4, 4, MAX, 1, 1, true)", BAD)
+            .still("channel(4, 4, MIN, MAX, 1, true)", BAD);
+        for (String n : new String[] {"-1", "6", "MIN", "MAX"}) {
+            r.still("channel(4, 4, 2, 3, " + n + ", true)", BAD).still("channel(4, 4, 0, 0, " + n + ", false)", BAD);
+        }
         r.still("channel(4, 3, 10, 0, 1, true)", 1).still("channel(4, 5, 0, 10, 1, true)", 1).still("channel(4, 4, 5, 5, 1, true)", 0);
     }
 
@@ -170,10 +180,17 @@ public final class EdgeChancesTest {
 
     private static void sticksBad() {
         Run r = run("sticks: BAD: n, x, w").bay(DRY + "W10");
-        for (String n : new String[] {"0", "7", "-1", "8", "MIN", "MAX"}) r.still("sticks(" + n + ", 5, 0, true)", BAD).still("sticks(" + n + ", 5, 0, false)", BAD);
-        for (String x : new String[] {"-1", "11", "MIN", "MAX"}) r.still("sticks(1, " + x + ", 0, true)", BAD).still("sticks(6, " + x + ", 9, false)", BAD);
-        for (String w : new String[] {"-1", "10", "MIN", "MAX"}) r.still("sticks(1, 5, " + w + ", true)", BAD).still("sticks(6, 10, " + w + ", false)", BAD);
-        r.still("sticks(0, 11, 10, true)", BAD).still("sticks(1, 11, 1, true)", BAD).still("sticks(1, 10, 0, true)", 1).still("sticks(6, 0, 9, true)", 0);
+        for (String n : new String[] {"0", "7", "-1", "8", "MIN", "MAX"}) {
+            r.still("sticks(" + n + ", 5, 0, true)", BAD).still("sticks(" + n + ", 5, 0, false)", BAD);
+        }
+        for (String x : new String[] {"-1", "11", "MIN", "MAX"}) {
+            r.still("sticks(1, " + x + ", 0, true)", BAD).still("sticks(6, " + x + ", 9, false)", BAD);
+        }
+        for (String w : new String[] {"-1", "10", "MIN", "MAX"}) {
+            r.still("sticks(1, 5, " + w + ", true)", BAD).still("sticks(6, 10, " + w + ", false)", BAD);
+        }
+        r.still("sticks(0, 11, 10, true)", BAD).still("sticks(1, 11, 1, true)", BAD).still("sticks(1, 10, 0, true)", 1)
+            .still("sticks(6, 0, 9, true)", 0);
     }
 
     // ---- promise 25
@@ -241,23 +258,31 @@ public final class EdgeChancesTest {
     private static void windUnknown() {
         Run r = run("wind: UNKNOWN is told ahead of BAD").bay(TIDE + "W35W35");
         for (String walker : new String[] {"-1", "2", "5", "MIN", "MAX"}) {
-            r.still("wind(" + walker + ", 0, 0, 0, true)", UNKNOWN).still("wind(" + walker + ", 41, 0, 0, true)", UNKNOWN).still("wind(" + walker + ", 0, 11, 0, false)", UNKNOWN).still("wind(" + walker + ", 0, 5, 6, false)", UNKNOWN);
+            r.still("wind(" + walker + ", 0, 0, 0, true)", UNKNOWN).still("wind(" + walker + ", 41, 0, 0, true)", UNKNOWN)
+                .still("wind(" + walker + ", 0, 11, 0, false)", UNKNOWN).still("wind(" + walker + ", 0, 5, 6, false)", UNKNOWN);
         }
         run("wind: UNKNOWN, nobody").still("wind(0, 0, 0, 0, true)", UNKNOWN).still("wind(0, -1, -1, -1, true)", UNKNOWN);
     }
 
     private static void windBad() {
         Run r = run("wind: BAD: t, a, b").bay(TIDE + "W35");
-        for (String t : new String[] {"-1", "41", "42", "MIN", "MAX"}) r.still("wind(0, " + t + ", 3, 3, true)", BAD).still("wind(0, " + t + ", 0, 0, false)", BAD);
-        for (String a : new String[] {"-1", "11", "MIN", "MAX"}) r.still("wind(0, 5, " + a + ", 0, true)", BAD).still("wind(0, 5, 0, " + a + ", false)", BAD).still("wind(0, 5, " + a + ", " + a + ", true)", BAD);
-        r.still("wind(0, 5, 5, 6, true)", BAD).still("wind(0, 5, 6, 5, true)", BAD).still("wind(0, 5, 10, 1, true)", BAD).still("wind(0, 5, 11, -1, true)", BAD).still("wind(0, 5, -1, 11, true)", BAD).still("wind(0, 5, MAX, MIN, true)", BAD);
+        for (String t : new String[] {"-1", "41", "42", "MIN", "MAX"}) {
+            r.still("wind(0, " + t + ", 3, 3, true)", BAD).still("wind(0, " + t + ", 0, 0, false)", BAD);
+        }
+        for (String a : new String[] {"-1", "11", "MIN", "MAX"}) {
+            r.still("wind(0, 5, " + a + ", 0, true)", BAD).still("wind(0, 5, 0, " + a + ", false)", BAD)
+                .still("wind(0, 5, " + a + ", " + a + ", true)", BAD);
+        }
+        r.still("wind(0, 5, 5, 6, true)", BAD).still("wind(0, 5, 6, 5, true)", BAD).still("wind(0, 5, 10, 1, true)", BAD)
+            .still("wind(0, 5, 11, -1, true)", BAD).still("wind(0, 5, -1, 11, true)", BAD).still("wind(0, 5, MAX, MIN, true)", BAD);
         r.still("wind(0, 0, 5, 5, true)", 1).still("wind(0, 40, 10, 0, true)", 0).still("wind(0, 0, 0, 10, true)", 1);
     }
 
     // ---- promise 26
 
     private static void seedTellsWhatItWas() {
-        run("THE SEED is v: what it was (0 at first)").does("seed(1)", 0).does("seed(-1)", 1).does("seed(MAX)", -1).does("seed(MIN)", Long.MAX_VALUE).does("seed(0)", Long.MIN_VALUE).does("seed(4294967296)", 0).does("seed(0)", 4294967296L).still("seed(0)", 0);
+        run("THE SEED is v: what it was (0 at first)").does("seed(1)", 0).does("seed(-1)", 1).does("seed(MAX)", -1).does("seed(MIN)", Long.MAX_VALUE)
+            .does("seed(0)", Long.MIN_VALUE).does("seed(4294967296)", 0).does("seed(0)", 4294967296L).still("seed(0)", 0);
     }
 
     /** A seed, the next one, and the CELL that one of PACE 1 comes to by one draw: worked out by another program. */
@@ -270,7 +295,8 @@ public final class EdgeChancesTest {
 
     private static void seedWraps() {
         for (long[] draw : DRAWS) {
-            run("x times 6364136223846793005 and 1442695040888963407 (64 bits, wrapping)").bay(DRY + "W10").does("seed(" + draw[0] + ")", 0).does("fog(0, 0, 1)", draw[2]).does("seed(0)", draw[1]);
+            run("x times 6364136223846793005 and 1442695040888963407 (64 bits, wrapping)").bay(DRY + "W10").does("seed(" + draw[0] + ")", 0)
+                .does("fog(0, 0, 1)", draw[2]).does("seed(0)", draw[1]);
         }
     }
 
@@ -284,7 +310,8 @@ public final class EdgeChancesTest {
 
     private static void seedUpper31Bits() {
         for (long[] draw : UPPER) {
-            run("of its upper 31 bits what is left by 4: 0: it HEADS back, else on").bay(DRY + "W10").does("seed(" + draw[0] + ")", 0).does("fog(0, 39, 1)", draw[2]).does("seed(0)", draw[1]);
+            run("of its upper 31 bits what is left by 4: 0: it HEADS back, else on").bay(DRY + "W10").does("seed(" + draw[0] + ")", 0)
+                .does("fog(0, 39, 1)", draw[2]).does("seed(0)", draw[1]);
         }
     }
 
@@ -334,7 +361,8 @@ public final class EdgeChancesTest {
         }
         // Two rows go on from one another.
         long seed = seedFor("ooob");
-        drawn("THE SEED goes on", DRY + "W10", "ooob").does("fog(0, 0, 2)", 2).does("fog(0, 0, 1)", 1).does("fog(0, 0, 1)", 0).does("seed(0)", afterSo(seed, 4));
+        drawn("THE SEED goes on", DRY + "W10", "ooob").does("fog(0, 0, 2)", 2).does("fog(0, 0, 1)", 1).does("fog(0, 0, 1)", 0)
+            .does("seed(0)", afterSo(seed, 4));
     }
 
     private static void fogSteps1To20() {
@@ -403,14 +431,17 @@ public final class EdgeChancesTest {
     private static void fogUnknown() {
         Run r = run("fog: UNKNOWN is told ahead of BAD").bay(DRY + "W10W10").does("seed(8)", 0);
         for (String walker : new String[] {"-1", "2", "5", "MIN", "MAX"}) {
-            r.still("fog(" + walker + ", 0, 1)", UNKNOWN).still("fog(" + walker + ", 41, 1)", UNKNOWN).still("fog(" + walker + ", 0, 0)", UNKNOWN).still("fog(" + walker + ", 40, 20)", UNKNOWN);
+            r.still("fog(" + walker + ", 0, 1)", UNKNOWN).still("fog(" + walker + ", 41, 1)", UNKNOWN).still("fog(" + walker + ", 0, 0)", UNKNOWN)
+                .still("fog(" + walker + ", 40, 20)", UNKNOWN);
         }
         run("fog: UNKNOWN, nobody").does("seed(8)", 0).still("fog(0, 0, 1)", UNKNOWN).still("fog(0, -1, 0)", UNKNOWN);
     }
 
     private static void fogBad() {
         Run r = run("fog: BAD: t, m").bay(DRY + "W10").does("seed(8)", 0);
-        for (String t : new String[] {"-1", "41", "40", "-20", "MIN", "MAX"}) r.still("fog(0, " + t + ", 1)", BAD).still("fog(0, " + t + ", 20)", BAD).still("fog(0, " + t + ", MAX)", BAD);
+        for (String t : new String[] {"-1", "41", "40", "-20", "MIN", "MAX"}) {
+            r.still("fog(0, " + t + ", 1)", BAD).still("fog(0, " + t + ", 20)", BAD).still("fog(0, " + t + ", MAX)", BAD);
+        }
         r.still("fog(0, MAX, MAX)", BAD).still("fog(0, MIN, MIN)", BAD).still("fog(0, -1, 0)", BAD).still("fog(0, 41, 0)", BAD).does("seed(8)", 8);
     }
 
@@ -430,6 +461,8 @@ public final class EdgeChancesTest {
         CHECK.due("what was kept stays", x.again(1), 1);
         // However it is now, it goes from CELL 0.
         long seed = seedFor("ooo");
-        Fates.reached(run("FOG: one goes alone from CELL 0, however it is now")).does("seed(" + seed + ")", 0).does("fog(0, 2, 1)", 3).does("seed(" + seed + ")", after(seed)).does("fog(1, 3, 1)", 0).does("seed(" + seed + ")", after(seed)).does("fog(2, 2, 2)", 2).where(2, 1, 3);
+        Fates.reached(run("FOG: one goes alone from CELL 0, however it is now")).does("seed(" + seed + ")", 0).does("fog(0, 2, 1)", 3)
+            .does("seed(" + seed + ")", after(seed)).does("fog(1, 3, 1)", 0).does("seed(" + seed + ")", after(seed)).does("fog(2, 2, 2)", 2)
+            .where(2, 1, 3);
     }
 }

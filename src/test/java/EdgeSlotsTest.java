@@ -12,6 +12,7 @@ public final class EdgeSlotsTest {
         keepIsNoAct();
         keepOverWhatWasKept();
         againHasNoActs();
+        againThenAnActIsUndone();
         againAtEveryFate();
         againLeavesAllElse();
         againOfNobody();
@@ -38,66 +39,90 @@ public final class EdgeSlotsTest {
     private static void againLate() {
         Run r = run("again: LATE: none were kept").bay(DRY + "W10").does("step()", 0).still("again(0)", LATE).still("again(1)", LATE);
         r.does("keep(1)", 1).still("again(0)", LATE).does("step()", 0).does("again(1)", 1).still("again(0)", LATE);
-        run("again: LATE: none were kept, the other SLOT").bay(DRY + "W10").does("keep(0)", 0).still("again(1)", LATE).does("again(0)", 0).still("again(1)", LATE);
+        run("again: LATE: none were kept, the other SLOT").bay(DRY + "W10").does("keep(0)", 0).still("again(1)", LATE).does("again(0)", 0)
+            .still("again(1)", LATE);
     }
 
     private static void againRefusedTwice() {
-        run("again: UNKNOWN is told ahead of LATE").still("again(2)", UNKNOWN).still("again(-1)", UNKNOWN).still("again(0)", LATE).still("again(1)", LATE);
+        run("again: UNKNOWN is told ahead of LATE").still("again(2)", UNKNOWN).still("again(-1)", UNKNOWN).still("again(0)", LATE)
+            .still("again(1)", LATE);
     }
 
     private static void keepTellsTheStep() {
-        Run r = run("They are kept: THE STEP").bay(DRY + "W10").does("keep(0)", 0).times(39, "step()", 0).does("keep(1)", 39).does("step()", 0).does("keep(1)", 40);
+        Run r = run("They are kept: THE STEP").bay(DRY + "W10").does("keep(0)", 0).times(39, "step()", 0).does("keep(1)", 39).does("step()", 0)
+            .does("keep(1)", 40);
         r.does("again(0)", 0).does("again(1)", 40).still("step()", LATE).does("again(0)", 0).does("step()", 0);
     }
 
     private static void keepIsNoAct() {
-        Run r = run("keep: ACTS stay").bay(DRY + "W10").times(17, "step()", 0).does("keep(0)", 17).still("about(12)", 16).does("undo()", 15).does("keep(1)", 16).does("undo()", 14).asks("about(2)", 15);
+        Run r = run("keep: ACTS stay").bay(DRY + "W10").times(17, "step()", 0).does("keep(0)", 17).still("about(12)", 16).does("undo()", 15)
+            .does("keep(1)", 16).does("undo()", 14).asks("about(2)", 15);
         r.does("again(0)", 17).asks("about(2)", 17);
     }
 
     private static void keepOverWhatWasKept() {
-        run("keep: over what was kept").bay(DRY + "W10").does("head(0, 1)", 0).does("step()", 0).does("keep(0)", 1).does("keep(1)", 1).does("step()", 0).does("keep(0)", 2).does("again(1)", 1).where(0, 1, 0).does("again(0)", 2).where(0, 2, 0).does("again(0)", 2).where(0, 2, 0);
+        run("keep: over what was kept").bay(DRY + "W10").does("head(0, 1)", 0).does("step()", 0).does("keep(0)", 1).does("keep(1)", 1)
+            .does("step()", 0).does("keep(0)", 2).does("again(1)", 1).where(0, 1, 0).does("again(0)", 2).where(0, 2, 0).does("again(0)", 2)
+            .where(0, 2, 0);
     }
 
     private static void againHasNoActs() {
-        Run r = run("no ACTS when one goes on").bay(DRY + "W10").does("keep(0)", 0).times(20, "step()", 0).still("about(12)", 16).does("again(0)", 0).still("about(12)", 0).still("undo()", LATE);
+        Run r = run("no ACTS when one goes on").bay(DRY + "W10").does("keep(0)", 0).times(20, "step()", 0).still("about(12)", 16).does("again(0)", 0)
+            .still("about(12)", 0).still("undo()", LATE);
         r.does("head(0, 1)", 0).still("about(12)", 1).does("undo()", 0).asks("walker(0, 3)", 0).still("undo()", LATE);
     }
 
+    private static void againThenAnActIsUndone() {
+        for (int acts = 1; acts <= 16; acts++) {
+            Run r = run("the ACT behind again is undone: as it was kept").bay(DRY + "W10").does("head(0, 1)", 0).times(5, "step()", 0)
+                .does("keep(1)", 5).times(acts, "step()", 0);
+            r.does("again(1)", 5).does("step()", 0).does("head(0, 2)", 1).does("undo()", 1).asks("walker(0, 3)", 1).does("undo()", 0).where(0, 5, 0)
+                .asks("about(2)", 5).asks("walker(0, 3)", 1).still("undo()", LATE);
+        }
+    }
+
     private static void againAtEveryFate() {
-        Run r = Fates.reached(run("They are as they were kept: WALKERS")).does("keep(1)", 4).does("head(4, 1)", 0).times(2, "step()", 0).does("undo()", 12).does("again(1)", 4);
+        Run r = Fates.reached(run("They are as they were kept: WALKERS")).does("keep(1)", 4).does("head(4, 1)", 0).times(2, "step()", 0)
+            .does("undo()", 12).does("again(1)", 4);
         int[] cell = {9, 1, 1, 1, 0};
         int[] way = {1, 1, 0, 1, 0};
         int[] fate = {1, 2, 3, 4, 0};
         for (int walker = 0; walker <= 4; walker++) r.where(walker, cell[walker], fate[walker]).asks("walker(" + walker + ", 3)", way[walker]);
-        r.asks("about(2)", 4).asks("cell(1, 4)", 1).asks("about(8)", 1).asks("about(9)", 2).asks("about(10)", 4).asks("about(11)", 8).asks("about(7)", 16);
+        r.asks("about(2)", 4).asks("cell(1, 4)", 1).asks("about(8)", 1).asks("about(9)", 2).asks("about(10)", 4).asks("about(11)", 8)
+            .asks("about(7)", 16);
         // What is kept stays as it was, though one goes on from it.
         r.does("head(4, 1)", 0).does("step()", 0).does("again(1)", 4).asks("walker(4, 3)", 0).asks("walker(4, 2)", 0);
         // UP is kept, too: a TOWER is full again, or has room again.
-        Run s = run("They are as they were kept: UP").bay(DRY + "W10W10" + "T11").does("head(0, 1)", 0).does("head(1, 1)", 0).does("step()", 0).does("keep(0)", 1).does("climb(0)", 1).does("keep(1)", 1);
+        Run s = run("They are as they were kept: UP").bay(DRY + "W10W10" + "T11").does("head(0, 1)", 0).does("head(1, 1)", 0).does("step()", 0)
+            .does("keep(0)", 1).does("climb(0)", 1).does("keep(1)", 1);
         s.does("again(0)", 1).does("climb(1)", 1).does("again(1)", 1).still("climb(1)", FULL).still("cell(1, 4)", 1);
     }
 
     private static void againLeavesAllElse() {
-        Run r = run("SLOTS keep THE STEP, WALKERS: nothing else").bay(DRY + "W10").does("seed(3)", 0).does("keep(0)", 0).does("seed(4)", 3).tell("B12").does("step()", 0).does("again(0)", 0);
+        Run r = run("SLOTS keep THE STEP, WALKERS: nothing else").bay(DRY + "W10").does("seed(3)", 0).does("keep(0)", 0).does("seed(4)", 3)
+            .tell("B12").does("step()", 0).does("again(0)", 0);
         r.asks("about(13)", 3).asks("fault()", 3).does("seed(4)", 4).asks("about(0)", 1);
     }
 
     private static void againOfNobody() {
-        run("keep and again of nobody").still("again(0)", LATE).does("keep(0)", 0).times(3, "step()", 0).does("keep(1)", 3).does("again(0)", 0).asks("about(2)", 0).does("again(1)", 3).asks("about(2)", 3).still("undo()", LATE);
+        run("keep and again of nobody").still("again(0)", LATE).does("keep(0)", 0).times(3, "step()", 0).does("keep(1)", 3).does("again(0)", 0)
+            .asks("about(2)", 0).does("again(1)", 3).asks("about(2)", 3).still("undo()", LATE);
     }
 
     private static void againAtTheLastStep() {
-        run("again at STEP 40").bay(DRY + "W10").does("keep(0)", 0).times(40, "step()", 0).still("step()", LATE).does("again(0)", 0).times(40, "step()", 0).still("step()", LATE);
+        run("again at STEP 40").bay(DRY + "W10").does("keep(0)", 0).times(40, "step()", 0).still("step()", LATE).does("again(0)", 0)
+            .times(40, "step()", 0).still("step()", LATE);
     }
 
     private static void keptIsGoneWithTheBay() {
-        Run r = run("bay: what was kept is gone").bay(DRY + "W10W10").does("keep(0)", 0).does("keep(1)", 0).does("bay()", 20).still("again(0)", LATE).still("again(1)", LATE).does("step()", 0);
+        Run r = run("bay: what was kept is gone").bay(DRY + "W10W10").does("keep(0)", 0).does("keep(1)", 0).does("bay()", 20).still("again(0)", LATE)
+            .still("again(1)", LATE).does("step()", 0);
         r.does("keep(1)", 1).still("again(0)", LATE).does("again(1)", 1);
     }
 
     private static void keptStaysWithAFault() {
-        run("bay: LATE: what was kept is not gone").bay(DRY + "W10").does("step()", 0).does("keep(0)", 1).does("step()", 0).does("write(88)", 19).still("bay()", LATE).does("again(0)", 1);
+        run("bay: LATE: what was kept is not gone").bay(DRY + "W10").does("step()", 0).does("keep(0)", 1).does("step()", 0).does("write(88)", 19)
+            .still("bay()", LATE).does("again(0)", 1);
     }
 
     // ---- An object is used for at most 512 calls: till then all holds.

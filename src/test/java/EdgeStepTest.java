@@ -95,19 +95,25 @@ public final class EdgeStepTest {
 
     private static void headRefusedTwice() {
         Run r = Fates.reached(run("head: UNKNOWN ahead of BAD, BAD ahead of LATE"));
-        for (String walker : new String[] {"-1", "5", "MIN", "MAX"}) for (String way : new String[] {"-1", "3"}) r.still("head(" + walker + ", " + way + ")", UNKNOWN);
-        for (int walker = 0; walker <= 3; walker++) for (String way : new String[] {"-1", "3", "MAX"}) r.still("head(" + walker + ", " + way + ")", BAD);
+        for (String walker : new String[] {"-1", "5", "MIN", "MAX"}) for (String way : new String[] {"-1", "3"}) {
+            r.still("head(" + walker + ", " + way + ")", UNKNOWN);
+        }
+        for (int walker = 0; walker <= 3; walker++) for (String way : new String[] {"-1", "3", "MAX"}) {
+            r.still("head(" + walker + ", " + way + ")", BAD);
+        }
     }
 
     private static void headAtTheLastStep() {
-        run("head: nothing is late at STEP 40").bay(DRY + "W10").times(40, "step()", 0).does("head(0, 1)", 0).does("head(0, 2)", 1).still("step()", LATE).does("undo()", 15);
+        run("head: nothing is late at STEP 40").bay(DRY + "W10").times(40, "step()", 0).does("head(0, 1)", 0).does("head(0, 2)", 1)
+            .still("step()", LATE).does("undo()", 15);
     }
 
     // ---- promise 11: how far
 
     private static void stepByPace() {
         Run r = run("CELL by CELL, as many as its PACE").bay(DRY + "W10W20W30").does("head(0, 1)", 0).does("head(1, 1)", 0).does("head(2, 1)", 0);
-        r.does("step()", 0).where(0, 1, WALKS).where(1, 2, WALKS).where(2, 3, WALKS).does("step()", 0).where(0, 2, WALKS).where(1, 4, WALKS).where(2, 6, WALKS);
+        r.does("step()", 0).where(0, 1, WALKS).where(1, 2, WALKS).where(2, 3, WALKS).does("step()", 0).where(0, 2, WALKS).where(1, 4, WALKS)
+            .where(2, 6, WALKS);
         for (int walker = 0; walker <= 2; walker++) r.does("head(" + walker + ", 2)", 1);
         r.does("step()", 0).where(0, 1, WALKS).where(1, 2, WALKS).where(2, 3, WALKS);
         for (int walker = 0; walker <= 2; walker++) r.does("head(" + walker + ", 0)", 2);
@@ -121,7 +127,8 @@ public final class EdgeStepTest {
 
     /** On the one CELL that lies low, at that STEP: at 10 it is bare, at 11 it is 1 deep. */
     private static Run onTheLowOne(String sentence, int pace, int step) {
-        return run(sentence).bay(lowAt(pace) + "W" + pace + "5").times(step - 1, "step()", 0).does("head(0, 1)", 0).does("step()", 0).where(0, pace, WALKS);
+        return run(sentence).bay(lowAt(pace) + "W" + pace + "5").times(step - 1, "step()", 0).does("head(0, 1)", 0).does("step()", 0)
+            .where(0, pace, WALKS);
     }
 
     private static void stepByHalfOfThePace() {
@@ -145,7 +152,8 @@ public final class EdgeStepTest {
     private static void stepOverWhatIsAsDeepAsItWades() {
         for (int wade = 0; wade <= 5; wade++) {
             // Till 10 - wade CELL 1 is deeper than it wades, then it is just as deep.
-            Run r = run("the next CELL is no deeper than it wades: " + wade).bay(lowAt(1) + "W1" + wade).does("head(0, 1)", 0).times(10 - wade, "step()", 0);
+            Run r = run("the next CELL is no deeper than it wades: " + wade).bay(lowAt(1) + "W1" + wade).does("head(0, 1)", 0)
+                .times(10 - wade, "step()", 0);
             r.where(0, 0, WALKS).asks("cell(1, 1)", wade).does("step()", wade == 0 ? 1 : 0).where(0, 1, wade == 0 ? DROWNED : WALKS);
             if (wade > 0) backFromCell2("it is as deep as it wades", wade, 10 + wade).where(0, 0, WALKS);
             backFromCell2("it is one deeper than it wades", wade, 11 + wade).where(0, 2, WALKS);
@@ -154,24 +162,29 @@ public final class EdgeStepTest {
 
     /** From CELL 2, which lies high, over CELL 1 back, at that STEP. */
     private static Run backFromCell2(String how, int wade, int step) {
-        Run r = run("the next CELL back: " + how + ", " + wade).bay(lowAt(1) + "W2" + wade).times(10, "step()", 0).does("head(0, 1)", 0).does("step()", 0).where(0, 2, WALKS);
+        Run r = run("the next CELL back: " + how + ", " + wade).bay(lowAt(1) + "W2" + wade).times(10, "step()", 0).does("head(0, 1)", 0)
+            .does("step()", 0).where(0, 2, WALKS);
         r.does("head(0, 0)", 1).times(step - 11, "step()", 0).asks("cell(1, 1)", step - 10).asks("about(2)", step);
         return r.does("head(0, 2)", 0).does("step()", 0);
     }
 
     private static void stepLooksAtTheStepNotTheNextOne() {
         // The water falls: at 0 CELL 1 is 2 deep, at 1 it is 1 deep.
-        run("no deeper at THE STEP: too deep still").bay("B9099999999" + "02" + "1" + "0" + "W11").does("head(0, 1)", 0).does("step()", 0).where(0, 0, WALKS).does("step()", 0).where(0, 1, WALKS);
+        run("no deeper at THE STEP: too deep still").bay("B9099999999" + "02" + "1" + "0" + "W11").does("head(0, 1)", 0).does("step()", 0)
+            .where(0, 0, WALKS).does("step()", 0).where(0, 1, WALKS);
         // The water comes: at 1 CELL 1 is 1 deep, at 2 it is 2 deep.
-        run("no deeper at THE STEP: not yet too deep").bay("B9099999999" + "00" + "1" + "0" + "W11").does("step()", 0).does("head(0, 1)", 0).does("step()", 1).where(0, 1, DROWNED);
+        run("no deeper at THE STEP: not yet too deep").bay("B9099999999" + "00" + "1" + "0" + "W11").does("step()", 0).does("head(0, 1)", 0)
+            .does("step()", 1).where(0, 1, DROWNED);
     }
 
     private static void stepGoesCellByCell() {
         // CELL 2 is too deep till 35 for one that wades 5, CELL 3 is bare: none comes over it by a longer pace.
-        Run r = run("CELL by CELL, as long as the next one is not too deep").bay("B9909999999" + "40" + "1" + "0" + "W30W20W35").does("head(0, 1)", 0).does("head(1, 1)", 0).does("head(2, 1)", 0);
+        Run r = run("CELL by CELL, as long as the next one is not too deep").bay("B9909999999" + "40" + "1" + "0" + "W30W20W35").does("head(0, 1)", 0)
+            .does("head(1, 1)", 0).does("head(2, 1)", 0);
         r.does("step()", 0).where(0, 1, WALKS).where(1, 1, WALKS).where(2, 1, WALKS).times(34, "step()", 0).asks("cell(2, 1)", 5).where(2, 1, WALKS);
         r.does("step()", 0).where(2, 4, WALKS).where(0, 1, WALKS).where(1, 1, WALKS);
-        Run s = run("CELL by CELL, back").bay("B9909999999" + "02" + "1" + "0" + "W30").times(2, "step()", 0).does("head(0, 1)", 0).does("step()", 0).where(0, 3, WALKS);
+        Run s = run("CELL by CELL, back").bay("B9909999999" + "02" + "1" + "0" + "W30").times(2, "step()", 0).does("head(0, 1)", 0).does("step()", 0)
+            .where(0, 3, WALKS);
         s.does("head(0, 2)", 1).does("step()", 0).where(0, 3, WALKS).times(5, "step()", 0).where(0, 3, WALKS);
     }
 
@@ -180,16 +193,22 @@ public final class EdgeStepTest {
         for (int walker = 0; walker <= 2; walker++) r.does("head(" + walker + ", 2)", 0);
         r.does("step()", 0).where(0, 0, WALKS).where(1, 0, WALKS).where(2, 0, WALKS);
         for (int walker = 1; walker <= 2; walker++) r.does("head(" + walker + ", 1)", 2);
-        r.does("step()", 0).where(1, 2, WALKS).where(2, 3, WALKS).does("head(2, 2)", 1).does("head(1, 2)", 1).does("step()", 0).where(1, 0, WALKS).where(2, 0, WALKS);
+        r.does("step()", 0).where(1, 2, WALKS).where(2, 3, WALKS).does("head(2, 2)", 1).does("head(1, 2)", 1).does("step()", 0).where(1, 0, WALKS)
+            .where(2, 0, WALKS);
         // 2 deep on CELL 3: so it goes by way of CELLS 3, 5, 8, and of its three CELLS there is but one more.
-        run("the next CELL there is: none behind 9").bay("B0000999999" + "03" + "1" + "0" + "W35").does("head(0, 1)", 0).times(3, "step()", 0).where(0, 8, WALKS).does("step()", 0).where(0, 9, OVER);
-        run("the next CELL there is: none behind 9").bay(DRY + "W20").does("head(0, 1)", 0).times(4, "step()", 0).where(0, 8, WALKS).does("step()", 0).where(0, 9, OVER);
+        run("the next CELL there is: none behind 9").bay("B0000999999" + "03" + "1" + "0" + "W35").does("head(0, 1)", 0).times(3, "step()", 0)
+            .where(0, 8, WALKS).does("step()", 0).where(0, 9, OVER);
+        run("the next CELL there is: none behind 9").bay(DRY + "W20").does("head(0, 1)", 0).times(4, "step()", 0).where(0, 8, WALKS).does("step()", 0)
+            .where(0, 9, OVER);
     }
 
     private static void stepIs40AtMost() {
-        Run r = run("40 at most: then no STEP goes by; LATE: THE STEP is 40").bay("B0999999990" + "00" + "1" + "0" + "W10W30").does("head(0, 1)", 0).does("head(1, 1)", 0).times(3, "step()", 0).does("head(0, 2)", 1).times(36, "step()", 0);
-        r.asks("about(2)", 39).does("step()", 0).asks("about(2)", 40).does("head(0, 1)", 2).still("step()", LATE).still("step()", LATE).where(0, 0, WALKS).asks("about(2)", 40).asks("about(12)", 16);
-        run("LATE: THE STEP is 40, in a new object").times(40, "step()", 0).still("step()", LATE).does("undo()", 15).does("step()", 0).still("step()", LATE);
+        Run r = run("40 at most: then no STEP goes by; LATE: THE STEP is 40").bay("B0999999990" + "00" + "1" + "0" + "W10W30").does("head(0, 1)", 0)
+            .does("head(1, 1)", 0).times(3, "step()", 0).does("head(0, 2)", 1).times(36, "step()", 0);
+        r.asks("about(2)", 39).does("step()", 0).asks("about(2)", 40).does("head(0, 1)", 2).still("step()", LATE).still("step()", LATE)
+            .where(0, 0, WALKS).asks("about(2)", 40).asks("about(12)", 16);
+        run("LATE: THE STEP is 40, in a new object").times(40, "step()", 0).still("step()", LATE).does("undo()", 15).does("step()", 0)
+            .still("step()", LATE);
     }
 
     // ---- promise 11: who is lost
@@ -199,19 +218,23 @@ public final class EdgeStepTest {
             // On CELL 1 from STEP 10 on, where it is as deep as STEPS are from 10.
             Run r = run("deeper by then than it wades: " + wade).bay(lowAt(1) + "W1" + wade).times(9, "step()", 0);
             if (wade == 0) r.does("step()", 0).does("head(0, 1)", 0).does("step()", 1).where(0, 1, DROWNED);
-            else r.does("head(0, 1)", 0).does("step()", 0).does("head(0, 0)", 1).times(wade, "step()", 0).asks("cell(1, 1)", wade).where(0, 1, WALKS).does("step()", 1).asks("cell(1, 1)", wade + 1).where(0, 1, DROWNED);
+            else r.does("head(0, 1)", 0).does("step()", 0).does("head(0, 0)", 1).times(wade, "step()", 0);
+            if (wade > 0) r.asks("cell(1, 1)", wade).where(0, 1, WALKS).does("step()", 1).asks("cell(1, 1)", wade + 1).where(0, 1, DROWNED);
         }
     }
 
     private static void drownedByThen() {
         // At 0 CELL 1 is bare, at 1 it is 3 deep, RISE 3.
-        run("on a CELL that is deeper by then").bay("B9099999999" + "00" + "3" + "0" + "W12W13").does("head(0, 1)", 0).does("head(1, 1)", 0).does("step()", 1).where(0, 1, DROWNED).where(1, 1, WALKS).does("step()", 0).where(1, 2, WALKS);
+        run("on a CELL that is deeper by then").bay("B9099999999" + "00" + "3" + "0" + "W12W13").does("head(0, 1)", 0).does("head(1, 1)", 0)
+            .does("step()", 1).where(0, 1, DROWNED).where(1, 1, WALKS).does("step()", 0).where(1, 2, WALKS);
         // One that goes off ahead of it is not DROWNED, one that stands is.
-        run("on the CELL to which it went").bay("B9099999999" + "00" + "1" + "0" + "W11W11").does("head(0, 1)", 0).does("head(1, 1)", 0).does("step()", 0).does("head(1, 0)", 1).does("step()", 2).where(0, 2, WALKS).where(1, 1, DROWNED);
+        run("on the CELL to which it went").bay("B9099999999" + "00" + "1" + "0" + "W11W11").does("head(0, 1)", 0).does("head(1, 1)", 0)
+            .does("step()", 0).does("head(1, 0)", 1).does("step()", 2).where(0, 2, WALKS).where(1, 1, DROWNED);
     }
 
     private static void drownedNotOnTheShores() {
-        Run r = run("on the shores nothing is deep: nobody is DROWNED there").bay("B0000000000" + "00" + "3" + "9" + "W10W20W30").does("head(0, 1)", 0).does("head(1, 2)", 0);
+        Run r = run("on the shores nothing is deep: nobody is DROWNED there").bay("B0000000000" + "00" + "3" + "9" + "W10W20W30")
+            .does("head(0, 1)", 0).does("head(1, 2)", 0);
         r.times(40, "step()", 0).where(0, 0, WALKS).where(1, 0, WALKS).where(2, 0, WALKS).asks("about(7)", 7);
     }
 
@@ -230,17 +253,22 @@ public final class EdgeStepTest {
 
     private static void stuckWhoCouldNotGo() {
         // CELL 2 is 4 deep and more: from CELL 1, soft, none goes on that wades 3; from CELL 3, soft, none goes back.
-        Run r = run("it did not go at all, though it HEADED on").bay("B9909999999" + "06" + "1" + "0" + "W13" + "S1").does("head(0, 1)", 0).does("step()", 0).where(0, 1, WALKS).asks("cell(2, 1)", 5).does("step()", 1).where(0, 1, STUCK);
-        Run s = run("it did not go at all, though it HEADED back").bay("B9909999999" + "02" + "1" + "0" + "W30" + "S3").times(2, "step()", 0).does("head(0, 1)", 0).does("step()", 0).does("head(0, 2)", 1).does("step()", 1).where(0, 3, STUCK);
+        Run r = run("it did not go at all, though it HEADED on").bay("B9909999999" + "06" + "1" + "0" + "W13" + "S1").does("head(0, 1)", 0)
+            .does("step()", 0).where(0, 1, WALKS).asks("cell(2, 1)", 5).does("step()", 1).where(0, 1, STUCK);
+        Run s = run("it did not go at all, though it HEADED back").bay("B9909999999" + "02" + "1" + "0" + "W30" + "S3").times(2, "step()", 0)
+            .does("head(0, 1)", 0).does("step()", 0).does("head(0, 2)", 1).does("step()", 1).where(0, 3, STUCK);
         r.asks("about(10)", 1);
         s.asks("about(9)", 0);
     }
 
     private static void notStuckWhoWent() {
         // From CELL 1 to 2, where it is to go three: it went, so it is not STUCK, whatever is SOFT.
-        Run r = run("not STUCK: it went").bay("B9990999999" + "09" + "1" + "0" + "W20" + "S1S2S4").does("head(0, 1)", 0).does("step()", 0).where(0, 2, WALKS).does("head(0, 2)", 1).does("step()", 0).where(0, 0, WALKS);
-        Run s = run("not STUCK: one CELL of three").bay("B9999099999" + "20" + "1" + "0" + "W20" + "S1S2S3").does("head(0, 1)", 0).does("step()", 0).where(0, 2, WALKS).does("step()", 0).where(0, 3, WALKS).does("step()", 1).where(0, 3, STUCK);
-        Run t = run("not STUCK: on the shore").bay(DRY + "W10" + "S1S2S3S4S5S6S7S8").times(5, "step()", 0).does("head(0, 1)", 0).times(8, "step()", 0).where(0, 8, WALKS).does("step()", 0).where(0, 9, OVER).times(2, "step()", 0).where(0, 9, OVER);
+        Run r = run("not STUCK: it went").bay("B9990999999" + "09" + "1" + "0" + "W20" + "S1S2S4").does("head(0, 1)", 0).does("step()", 0)
+            .where(0, 2, WALKS).does("head(0, 2)", 1).does("step()", 0).where(0, 0, WALKS);
+        Run s = run("not STUCK: one CELL of three").bay("B9999099999" + "20" + "1" + "0" + "W20" + "S1S2S3").does("head(0, 1)", 0).does("step()", 0)
+            .where(0, 2, WALKS).does("step()", 0).where(0, 3, WALKS).does("step()", 1).where(0, 3, STUCK);
+        Run t = run("not STUCK: on the shore").bay(DRY + "W10" + "S1S2S3S4S5S6S7S8").times(5, "step()", 0).does("head(0, 1)", 0).times(8, "step()", 0)
+            .where(0, 8, WALKS).does("step()", 0).where(0, 9, OVER).times(2, "step()", 0).where(0, 9, OVER);
         r.asks("about(10)", 0);
         s.asks("about(10)", 1);
         t.asks("about(10)", 0);
@@ -248,7 +276,8 @@ public final class EdgeStepTest {
 
     private static void drownedRatherThanStuck() {
         // It stands on CELL 1, soft: 1 deep at 1, 2 deep at 2.
-        run("DROWNED; else STUCK").bay("B9099999999" + "00" + "1" + "0" + "W11W12" + "S1").does("head(0, 1)", 0).does("head(1, 1)", 0).does("step()", 0).does("head(0, 0)", 1).does("head(1, 0)", 1).does("step()", 3)
+        run("DROWNED; else STUCK").bay("B9099999999" + "00" + "1" + "0" + "W11W12" + "S1")
+            .does("head(0, 1)", 0).does("head(1, 1)", 0).does("step()", 0).does("head(0, 0)", 1).does("head(1, 0)", 1).does("step()", 3)
             .where(0, 1, DROWNED).where(1, 1, STUCK).asks("about(9)", 1).asks("about(10)", 2);
     }
 
@@ -256,12 +285,14 @@ public final class EdgeStepTest {
         for (int pace = 1; pace <= 3; pace++) {
             Run r = run("Who comes to CELL 9 by HEADING on is OVER, and WALKS no more").bay(DRY + "W" + pace + "0").does("head(0, 1)", 0);
             for (int cell = pace; cell < 9; cell += pace) r.does("step()", 0).where(0, cell, WALKS);
-            r.does("step()", 0).where(0, 9, OVER).still("about(7)", 0).still("about(8)", 1).still("head(0, 2)", LATE).does("step()", 0).where(0, 9, OVER);
+            r.does("step()", 0).where(0, 9, OVER).still("about(7)", 0).still("about(8)", 1).still("head(0, 2)", LATE).does("step()", 0)
+                .where(0, 9, OVER);
         }
     }
 
     private static void overAtTheLastStep() {
-        run("OVER at STEP 40").bay(DRY + "W10W10").times(31, "step()", 0).does("head(0, 1)", 0).does("step()", 0).does("head(1, 1)", 0).times(8, "step()", 0).where(0, 9, OVER).where(1, 8, WALKS).still("step()", LATE).asks("about(2)", 40);
+        run("OVER at STEP 40").bay(DRY + "W10W10").times(31, "step()", 0).does("head(0, 1)", 0).does("step()", 0).does("head(1, 1)", 0)
+            .times(8, "step()", 0).where(0, 9, OVER).where(1, 8, WALKS).still("step()", LATE).asks("about(2)", 40);
     }
 
     private static void stepOfNobody() {
@@ -313,11 +344,13 @@ public final class EdgeStepTest {
     }
 
     private static void climbAtTheLastStep() {
-        run("climb: nothing is late at STEP 40").bay(DRY + "W10" + "T11").does("head(0, 1)", 0).does("step()", 0).does("head(0, 0)", 1).times(39, "step()", 0).still("step()", LATE).does("climb(0)", 1).where(0, 1, UP);
+        run("climb: nothing is late at STEP 40").bay(DRY + "W10" + "T11").does("head(0, 1)", 0).does("step()", 0).does("head(0, 0)", 1)
+            .times(39, "step()", 0).still("step()", LATE).does("climb(0)", 1).where(0, 1, UP);
     }
 
     private static void upLives() {
-        Run r = run("UP: it WALKS no more, and lives").bay("B9099999999" + "00" + "3" + "0" + "W15" + "T11S1").does("head(0, 1)", 0).does("step()", 0).does("climb(0)", 1).times(39, "step()", 0);
+        Run r = run("UP: it WALKS no more, and lives").bay("B9099999999" + "00" + "3" + "0" + "W15" + "T11S1").does("head(0, 1)", 0).does("step()", 0)
+            .does("climb(0)", 1).times(39, "step()", 0);
         r.where(0, 1, UP).asks("cell(1, 1)", 9).asks("about(11)", 1).asks("about(7)", 0).asks("saved()", 1);
     }
 
@@ -325,7 +358,8 @@ public final class EdgeStepTest {
 
     private static void undoOfNone() {
         run("undo: LATE: there is none, in a new object").still("undo()", LATE);
-        run("undo: LATE: there is none, in a bay").bay(DRY + "W10").still("undo()", LATE).does("head(0, 1)", 0).does("undo()", 0).still("undo()", LATE);
+        run("undo: LATE: there is none, in a bay").bay(DRY + "W10").still("undo()", LATE).does("head(0, 1)", 0).does("undo()", 0)
+            .still("undo()", LATE);
     }
 
     private static void undoOfEachAct() {
@@ -335,17 +369,22 @@ public final class EdgeStepTest {
         r.does("undo()", 2).where(1, 0, WALKS).where(0, 0, WALKS).asks("about(2)", 0).asks("walker(1, 3)", 1);
         r.does("undo()", 1).asks("walker(1, 3)", 0).asks("walker(0, 3)", 1).does("undo()", 0).asks("walker(0, 3)", 0).still("undo()", LATE);
         // OVER and STUCK are undone too.
-        Run s = run("OVER and STUCK undone").bay(DRY + "W30W10" + "S1").does("head(0, 1)", 0).does("head(1, 1)", 0).does("step()", 0).does("head(1, 0)", 1).does("step()", 2).does("step()", 0);
-        s.where(0, 9, OVER).where(1, 1, STUCK).does("undo()", 5).where(0, 6, WALKS).where(1, 1, STUCK).does("undo()", 4).where(0, 3, WALKS).where(1, 1, WALKS).does("step()", 2);
+        Run s = run("OVER and STUCK undone").bay(DRY + "W30W10" + "S1").does("head(0, 1)", 0).does("head(1, 1)", 0).does("step()", 0)
+            .does("head(1, 0)", 1).does("step()", 2).does("step()", 0);
+        s.where(0, 9, OVER).where(1, 1, STUCK).does("undo()", 5).where(0, 6, WALKS).where(1, 1, STUCK).does("undo()", 4).where(0, 3, WALKS)
+            .where(1, 1, WALKS).does("step()", 2);
     }
 
     private static void undoOfTheTower() {
-        run("FULL no more when CLIMBED is undone").bay(DRY + "W10W10" + "T11").does("head(0, 1)", 0).does("head(1, 1)", 0).does("step()", 0).does("climb(0)", 1).still("climb(1)", FULL).does("undo()", 3).does("climb(1)", 1).still("climb(0)", FULL);
+        run("FULL no more when CLIMBED is undone").bay(DRY + "W10W10" + "T11").does("head(0, 1)", 0).does("head(1, 1)", 0).does("step()", 0)
+            .does("climb(0)", 1).still("climb(1)", FULL).does("undo()", 3).does("climb(1)", 1).still("climb(0)", FULL);
     }
 
     /** Heads by turns, so many: on, back, on, .. */
     private static Run turns(Run r, int from, int to) {
-        for (int k = from; k <= to; k++) r.does("head(0, " + (k % 2 == 1 ? 1 : 2) + ")", k == 1 ? 0 : k % 2 == 1 ? 2 : 1).asks("about(12)", Math.min(16, k));
+        for (int k = from; k <= to; k++) {
+            r.does("head(0, " + (k % 2 == 1 ? 1 : 2) + ")", k == 1 ? 0 : k % 2 == 1 ? 2 : 1).asks("about(12)", Math.min(16, k));
+        }
         return r;
     }
 
@@ -369,7 +408,8 @@ public final class EdgeStepTest {
         for (int left = 15; left >= 0; left--) s.does("undo()", left).asks("about(2)", 24 + left);
         s.still("undo()", LATE).asks("about(2)", 24);
         // CLIMBED and HEADED push out too.
-        Run t = run("the first one is forgotten by any ACT").bay(DRY + "W10" + "T11").times(14, "step()", 0).does("head(0, 1)", 0).does("step()", 0).asks("about(12)", 16).does("climb(0)", 1).asks("about(12)", 16);
+        Run t = run("the first one is forgotten by any ACT").bay(DRY + "W10" + "T11").times(14, "step()", 0).does("head(0, 1)", 0).does("step()", 0)
+            .asks("about(12)", 16).does("climb(0)", 1).asks("about(12)", 16);
         t.times(1, "undo()", 15).where(0, 1, WALKS);
         for (int left = 14; left >= 0; left--) t.does("undo()", left);
         t.asks("about(2)", 1).still("undo()", LATE);
@@ -390,7 +430,8 @@ public final class EdgeStepTest {
     }
 
     private static void undoLeavesAllElse() {
-        Run r = run("undo: only the ACT is undone").bay(DRY + "W10").does("step()", 0).does("seed(6)", 0).does("keep(0)", 1).does("wipe()", 18).does("undo()", 0);
+        Run r = run("undo: only the ACT is undone").bay(DRY + "W10").does("step()", 0).does("seed(6)", 0).does("keep(0)", 1).does("wipe()", 18)
+            .does("undo()", 0);
         r.asks("about(13)", 0).asks("about(0)", 1).does("seed(6)", 6).does("again(0)", 1).asks("about(2)", 1).still("undo()", LATE);
     }
 }

@@ -105,13 +105,15 @@ public final class EdgeTextTest {
     }
 
     private static void fullTakesAgainWhenWiped() {
-        run("FULL only while there are 56").tell(LONGEST + "XXXX").still("write(66)", FULL).does("wipe()", 56).does("write(66)", 1).still("fault()", 1);
+        run("FULL only while there are 56").tell(LONGEST + "XXXX").still("write(66)", FULL).does("wipe()", 56).does("write(66)", 1)
+            .still("fault()", 1);
     }
 
     // ---- promise 3
 
     private static void wipeOfNone() {
-        run("THE TEXT is empty: how long it was").does("wipe()", 0).does("wipe()", 0).does("write(7)", 1).does("wipe()", 1).does("wipe()", 0).still("fault()", 0);
+        run("THE TEXT is empty: how long it was").does("wipe()", 0).does("wipe()", 0).does("write(7)", 1).does("wipe()", 1).does("wipe()", 0)
+            .still("fault()", 0);
     }
 
     private static void wipeOfAFullOne() {
@@ -121,8 +123,10 @@ public final class EdgeTextTest {
     }
 
     private static void wipeLeavesAllElse() {
-        Run r = run("wipe: only THE TEXT is empty").bay(BARE + "W35W14" + "T31S2").does("seed(44)", 0).does("head(0, 1)", 0).does("keep(0)", 0).does("step()", 0);
-        r.does("wipe()", 26).asks("about(0)", 2).asks("about(1)", 1).asks("about(2)", 1).asks("about(12)", 2).asks("cell(2, 2)", 1).asks("cell(3, 3)", 1);
+        Run r = run("wipe: only THE TEXT is empty").bay(BARE + "W35W14" + "T31S2").does("seed(44)", 0).does("head(0, 1)", 0).does("keep(0)", 0)
+            .does("step()", 0);
+        r.does("wipe()", 26).asks("about(0)", 2).asks("about(1)", 1).asks("about(2)", 1).asks("about(12)", 2).asks("cell(2, 2)", 1)
+            .asks("cell(3, 3)", 1);
         r.where(0, 3, 0).does("seed(44)", 44).does("undo()", 1).where(0, 0, 0).does("again(0)", 0).asks("walker(0, 3)", 1);
     }
 
@@ -180,7 +184,8 @@ public final class EdgeTextTest {
     }
 
     private static void faultWhateverCameBehind() {
-        String[] spoiled = {"X", "BX", "B0123456789" + "5", "B0123456789" + "41", "B0123456789" + "400", BARE + "W0", BARE + "W16", BARE + "T10", BARE + "S3S3", BARE + "T21T2"};
+        String[] spoiled = {"X", "BX", "B0123456789" + "5", "B0123456789" + "41", "B0123456789" + "400",
+            BARE + "W0", BARE + "W16", BARE + "T10", BARE + "S3S3", BARE + "T21T2"};
         int[] place = {0, 1, 11, 12, 13, 16, 17, 17, 18, 19};
         String[] behind = {"", "0", "B", "W10", BARE, "W10W10W10W10W10", "\u0000\u00ff"};
         for (int k = 0; k < spoiled.length; k++) {
@@ -197,7 +202,8 @@ public final class EdgeTextTest {
     }
 
     private static void heights() {
-        run("ten figures (HEIGHTS of CELLS 0 .. 9, 0 .. 9)").bay("B0123456789" + "00" + "1" + "0").asks("cell(0, 0)", 0).asks("cell(1, 0)", 1).asks("cell(8, 0)", 8).asks("cell(9, 0)", 9);
+        run("ten figures (HEIGHTS of CELLS 0 .. 9, 0 .. 9)").bay("B0123456789" + "00" + "1" + "0").asks("cell(0, 0)", 0).asks("cell(1, 0)", 1)
+            .asks("cell(8, 0)", 8).asks("cell(9, 0)", 9);
         run("ten figures").bay("B9876543210" + "00" + "1" + "0").asks("cell(0, 0)", 9).asks("cell(9, 0)", 0);
         fault("ten figures, not nine", "B012345678" + "W10", 10);
         fault("ten figures, not eleven", "B01234567890" + "00" + "1" + "0", 13);
@@ -242,7 +248,9 @@ public final class EdgeTextTest {
 
     private static void walkersByPaceAndWade() {
         for (int pace = 1; pace <= 3; pace++) {
-            for (int wade = 0; wade <= 5; wade++) run("PACE p (1 .. 3), wades d deep (0 .. 5)").bay(BARE + "W" + pace + wade).asks("walker(0, 0)", pace).asks("walker(0, 1)", wade);
+            for (int wade = 0; wade <= 5; wade++) {
+                run("PACE p (1 .. 3), wades d deep (0 .. 5)").bay(BARE + "W" + pace + wade).asks("walker(0, 0)", pace).asks("walker(0, 1)", wade);
+            }
         }
         fault("PACE is 1 at least", BARE + "W05", 16);
         fault("PACE is 3 at most", BARE + "W45", 16);
@@ -252,7 +260,8 @@ public final class EdgeTextTest {
 
     private static void aSixthWalker() {
         String five = BARE + "W10W10W10W10W10";
-        run("WALKERS 0, 1, .. (5 at most)").tell(five).still("fault()", NONE).does("bay()", 50).still("walker(4, 0)", 1).still("walker(5, 0)", UNKNOWN);
+        run("WALKERS 0, 1, .. (5 at most)").tell(five).still("fault()", NONE).does("bay()", 50).still("walker(4, 0)", 1)
+            .still("walker(5, 0)", UNKNOWN);
         fault("a sixth W", five + "W", 30);
         fault("a sixth W", five + "W1", 30);
         fault("a sixth W", five + "W10", 30);
@@ -262,7 +271,9 @@ public final class EdgeTextTest {
 
     private static void towersByCellAndRoom() {
         for (int cell = 1; cell <= 8; cell++) {
-            for (int room = 1; room <= 4; room++) run("a TOWER on CELL c (1 .. 8) for k WALKERS (1 .. 4)").bay(BARE + "T" + cell + room).asks("cell(" + cell + ", 3)", room);
+            for (int room = 1; room <= 4; room++) {
+                run("a TOWER on CELL c (1 .. 8) for k WALKERS (1 .. 4)").bay(BARE + "T" + cell + room).asks("cell(" + cell + ", 3)", room);
+            }
         }
         fault("a TOWER on CELL 1 at least", BARE + "T01", 16);
         fault("a TOWER on CELL 8 at most", BARE + "T91", 16);
@@ -287,7 +298,10 @@ public final class EdgeTextTest {
     }
 
     private static void softCells() {
-        for (int cell = 1; cell <= 8; cell++) run("CELL c (1 .. 8) is SOFT").bay(BARE + "S" + cell).asks("cell(" + cell + ", 2)", 1).asks("cell(" + (cell - 1) + ", 2)", 0).asks("cell(" + (cell + 1) + ", 2)", 0);
+        for (int cell = 1; cell <= 8; cell++) {
+            run("CELL c (1 .. 8) is SOFT").bay(BARE + "S" + cell).asks("cell(" + cell + ", 2)", 1).asks("cell(" + (cell - 1) + ", 2)", 0)
+                .asks("cell(" + (cell + 1) + ", 2)", 0);
+        }
         fault("SOFT is CELL 1 at least", BARE + "S0", 16);
         fault("SOFT is CELL 8 at most", BARE + "S9", 16);
     }
@@ -319,7 +333,8 @@ public final class EdgeTextTest {
     }
 
     private static void faultChangesNothing() {
-        Run r = run("fault() changes nothing").bay("B1111111111" + "05" + "2" + "3" + "W25" + "S4T42").does("head(0, 1)", 0).does("step()", 0).does("keep(1)", 1).does("seed(9)", 0);
+        Run r = run("fault() changes nothing").bay("B1111111111" + "05" + "2" + "3" + "W25" + "S4T42").does("head(0, 1)", 0).does("step()", 0)
+            .does("keep(1)", 1).does("seed(9)", 0);
         r.tell(BARE + "T8").still("fault()", 17).still("bay()", LATE).does("wipe()", 17).still("fault()", 0);
         r.asks("about(5)", 2).asks("cell(8, 3)", 0).asks("cell(4, 3)", 2);
     }
@@ -330,7 +345,8 @@ public final class EdgeTextTest {
         for (int walkers = 0; walkers <= 5; walkers++) {
             for (int towers = 0; towers <= 2; towers++) {
                 String text = BARE + "W10".repeat(walkers) + "T11T21".substring(0, 3 * towers);
-                run("10 times WALKERS, and TOWERS").tell(text).does("bay()", 10 * walkers + towers).asks("about(0)", walkers).asks("about(1)", towers);
+                run("10 times WALKERS, and TOWERS").tell(text).does("bay()", 10 * walkers + towers).asks("about(0)", walkers)
+                    .asks("about(1)", towers);
             }
         }
     }
@@ -343,7 +359,8 @@ public final class EdgeTextTest {
 
     private static void bayKeepsTheTextAndTheSeed() {
         Run r = run("THE TEXT itself stays; THE SEED stays").does("seed(MIN)", 0).tell(LONGEST).does("bay()", 52).does("bay()", 52);
-        r.asks("about(13)", 52).asks("fault()", NONE).does("seed(MIN)", Long.MIN_VALUE).does("write(83)", 53).still("fault()", 52).still("bay()", LATE);
+        r.asks("about(13)", 52).asks("fault()", NONE).does("seed(MIN)", Long.MIN_VALUE).does("write(83)", 53).still("fault()", 52)
+            .still("bay()", LATE);
         r.asks("about(0)", 5);
     }
 
@@ -352,18 +369,22 @@ public final class EdgeTextTest {
         for (int k = 0; k < 8; k++) r.does("head(0, 1)", k == 0 ? 0 : 2).does("head(0, 2)", 1);
         r.still("about(12)", 16).does("keep(0)", 0).does("keep(1)", 0).does("bay()", 10).still("about(12)", 0).still("undo()", LATE);
         r.still("again(0)", LATE).still("again(1)", LATE).does("step()", 0).still("about(12)", 1).does("undo()", 0);
+        r.asks("about(2)", 0).asks("walker(0, 3)", 0).asks("walker(0, 2)", 0);
     }
 
     private static void bayStandsAllOnCell0() {
         String text = "B0000000000" + "02" + "1" + "0" + "W35W10W15W15W15" + "S1T11";
         Run r = Fates.reached(run("When THE BAY is made anew, THE STEP is 0, all WALKERS STAND on CELL 0"), text);
         r.does("head(4, 1)", 0).still("about(2)", 4).does("bay()", 51).still("about(2)", 0).still("about(7)", 31);
-        for (int walker = 0; walker <= 4; walker++) r.asks("walker(" + walker + ", 2)", 0).asks("walker(" + walker + ", 3)", 0).asks("walker(" + walker + ", 4)", 0);
+        for (int walker = 0; walker <= 4; walker++) {
+            r.asks("walker(" + walker + ", 2)", 0).asks("walker(" + walker + ", 3)", 0).asks("walker(" + walker + ", 4)", 0);
+        }
         r.asks("cell(1, 4)", 0).asks("about(8)", 0).asks("about(9)", 0).asks("about(10)", 0).asks("about(11)", 0);
     }
 
     private static void bayWithAFault() {
-        String[] texts = {"", "B", "X", BARE.substring(0, 14), BARE + "W", BARE + "W1", BARE + "W10T", BARE + "T1", BARE + "S", BARE + "S1S1", BARE + "X", LONGEST + "S", LONGEST + "XXXX"};
+        String[] texts = {"", "B", "X", BARE.substring(0, 14), BARE + "W", BARE + "W1", BARE + "W10T",
+            BARE + "T1", BARE + "S", BARE + "S1S1", BARE + "X", LONGEST + "S", LONGEST + "XXXX"};
         for (String text : texts) {
             Run r = run("bay: LATE: a FAULT (" + text + ")").bay("B1234567890" + "07" + "2" + "1" + "W31W25" + "S2T43").does("seed(77)", 0);
             r.does("head(0, 1)", 0).does("keep(1)", 0).does("step()", 0);

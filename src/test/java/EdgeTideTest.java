@@ -57,7 +57,8 @@ public final class EdgeTideTest {
     }
 
     private static void aboutOfTheGreatest() {
-        Run r = run("about, the greatest of each").bay(FLAT + "40" + "3" + "9" + "W35W35W35W35W35" + "T84T74").tell("X".repeat(56)).times(40, "step()", 0);
+        Run r = run("about, the greatest of each").bay(FLAT + "40" + "3" + "9" + "W35W35W35W35W35" + "T84T74").tell("X".repeat(56))
+            .times(40, "step()", 0);
         int[] want = {5, 2, 40, 9, 40, 3, 9, 31, 0, 0, 0, 0, 16, 56};
         for (int what = 0; what <= 13; what++) r.still("about(" + what + ")", want[what]);
     }
@@ -126,7 +127,9 @@ public final class EdgeTideTest {
         Run r = run("cell: what 0 .. 4; BAD").bay("B1234567890" + "09" + "1" + "0" + "W10" + "S3T32");
         int[] want = {4, 5, 1, 2, 0};
         for (int what = 0; what <= 4; what++) r.still("cell(3, " + what + ")", want[what]);
-        for (String what : new String[] {"-1", "5", "6", "MIN", "MAX"}) r.still("cell(0, " + what + ")", BAD).still("cell(3, " + what + ")", BAD).still("cell(9, " + what + ")", BAD);
+        for (String what : new String[] {"-1", "5", "6", "MIN", "MAX"}) {
+            r.still("cell(0, " + what + ")", BAD).still("cell(3, " + what + ")", BAD).still("cell(9, " + what + ")", BAD);
+        }
     }
 
     private static void cellOfTheGreatest() {
@@ -135,14 +138,17 @@ public final class EdgeTideTest {
         r.asks("cell(2, 2)", 0).asks("cell(2, 3)", 0).asks("cell(2, 4)", 0).asks("cell(8, 1)", 9).asks("cell(9, 1)", 0).asks("cell(0, 1)", 0);
         Run s = five("how many are UP there: 0 .. 4", DRY, "W10W10W10W10W10", "T14", 1).does("step()", 0);
         for (int up = 0; up < 4; up++) s.still("cell(1, 4)", up).does("climb(" + up + ")", up + 1);
-        s.still("cell(1, 4)", 4).still("climb(4)", OverSands.FULL).asks("cell(1, 4)", 4).asks("cell(1, 3)", 4).asks("cell(1, 0)", 9).asks("cell(1, 1)", 0);
+        s.still("cell(1, 4)", 4).still("climb(4)", OverSands.FULL).asks("cell(1, 4)", 4).asks("cell(1, 3)", 4).asks("cell(1, 0)", 9)
+            .asks("cell(1, 1)", 0);
         // Walkers that are there, but are not UP, do not count.
         Fates.reached(run("how many are UP there, of four that are there")).still("cell(1, 4)", 1).still("cell(0, 4)", 0).still("cell(9, 4)", 0);
     }
 
     private static void cellRefusedTwice() {
         Run r = run("cell: UNKNOWN is told ahead of BAD").bay(DRY + "W10");
-        for (String cell : new String[] {"-1", "10", "MIN", "MAX"}) for (String what : new String[] {"-1", "5", "MAX"}) r.still("cell(" + cell + ", " + what + ")", UNKNOWN);
+        for (String cell : new String[] {"-1", "10", "MIN", "MAX"}) for (String what : new String[] {"-1", "5", "MAX"}) {
+            r.still("cell(" + cell + ", " + what + ")", UNKNOWN);
+        }
     }
 
     // ---- promise 8
@@ -154,7 +160,8 @@ public final class EdgeTideTest {
             for (String walker : new String[] {"-1", "6", "MIN", "MAX"}) r.still("walker(" + walker + ", 0)", UNKNOWN);
         }
         // Five, then fewer: who was there before is no more.
-        run("walker: UNKNOWN in a bay made anew").bay(DRY + "W21".repeat(5)).bay(DRY + "W32").still("walker(0, 0)", 3).still("walker(1, 0)", UNKNOWN).still("walker(4, 0)", UNKNOWN);
+        run("walker: UNKNOWN in a bay made anew").bay(DRY + "W21".repeat(5)).bay(DRY + "W32").still("walker(0, 0)", 3).still("walker(1, 0)", UNKNOWN)
+            .still("walker(4, 0)", UNKNOWN);
     }
 
     private static void walkerIsAskedFor0To4() {
@@ -175,7 +182,9 @@ public final class EdgeTideTest {
 
     private static void walkerRefusedTwice() {
         Run r = run("walker: UNKNOWN is told ahead of BAD").bay(DRY + "W10");
-        for (String walker : new String[] {"-1", "1", "5", "MIN", "MAX"}) for (String what : new String[] {"-1", "5", "MIN"}) r.still("walker(" + walker + ", " + what + ")", UNKNOWN);
+        for (String walker : new String[] {"-1", "1", "5", "MIN", "MAX"}) for (String what : new String[] {"-1", "5", "MIN"}) {
+            r.still("walker(" + walker + ", " + what + ")", UNKNOWN);
+        }
     }
 
     // ---- promise 9
@@ -183,7 +192,9 @@ public final class EdgeTideTest {
     private static void deepForCells0To9() {
         Run r = run("deep: UNKNOWN").bay("B0123456789" + "00" + "1" + "9" + "W10");
         for (int cell = 0; cell <= 9; cell++) r.still("deep(" + cell + ", 0)", cell == 0 ? 0 : 9 - cell);
-        for (String cell : new String[] {"-1", "10", "11", "MIN", "MAX"}) r.still("deep(" + cell + ", 0)", UNKNOWN).still("deep(" + cell + ", 40)", UNKNOWN);
+        for (String cell : new String[] {"-1", "10", "11", "MIN", "MAX"}) {
+            r.still("deep(" + cell + ", 0)", UNKNOWN).still("deep(" + cell + ", 40)", UNKNOWN);
+        }
     }
 
     private static void deepForSteps0To40() {
@@ -196,7 +207,9 @@ public final class EdgeTideTest {
 
     private static void deepRefusedTwice() {
         Run r = run("deep: UNKNOWN is told ahead of BAD").bay(DRY + "W10");
-        for (String cell : new String[] {"-1", "10", "MIN", "MAX"}) for (String step : new String[] {"-1", "41", "MIN"}) r.still("deep(" + cell + ", " + step + ")", UNKNOWN);
+        for (String cell : new String[] {"-1", "10", "MIN", "MAX"}) for (String step : new String[] {"-1", "41", "MIN"}) {
+            r.still("deep(" + cell + ", " + step + ")", UNKNOWN);
+        }
     }
 
     private static void water(String sentence, String tide, int[] steps, int[] want) {
@@ -227,14 +240,15 @@ public final class EdgeTideTest {
     }
 
     private static void waterFallsAndComes() {
-        water("a tide that falls and comes: LOW at the first STEP", "00" + "1" + "0", new int[] {0, 1, 2, 8, 9, 10, 40}, new int[] {0, 1, 2, 8, 9, 9, 9});
-        water("a tide that falls and comes: LOW at the last STEP", "40" + "1" + "0", new int[] {40, 39, 38, 32, 31, 30, 0}, new int[] {0, 1, 2, 8, 9, 9, 9});
+        water("a tide that comes: LOW at the first STEP", "00" + "1" + "0", new int[] {0, 1, 2, 8, 9, 10, 40}, new int[] {0, 1, 2, 8, 9, 9, 9});
+        water("a tide that falls: LOW at the last STEP", "40" + "1" + "0", new int[] {40, 39, 38, 32, 31, 30, 0}, new int[] {0, 1, 2, 8, 9, 9, 9});
     }
 
     private static void waterByRise() {
         for (int rise = 1; rise <= 3; rise++) {
-            water("RISE times as many STEPS as that is from LOW", "20" + rise + "0", new int[] {18, 19, 20, 21, 22}, new int[] {2 * rise, rise, 0, rise, 2 * rise});
-            water("LEAST and RISE times as many", "20" + rise + "2", new int[] {18, 19, 20, 21, 22}, new int[] {2 + 2 * rise, 2 + rise, 2, 2 + rise, 2 + 2 * rise});
+            int[] steps = {18, 19, 20, 21, 22};
+            water("RISE times as many STEPS as that is from LOW", "20" + rise + "0", steps, new int[] {2 * rise, rise, 0, rise, 2 * rise});
+            water("LEAST and RISE times as many", "20" + rise + "2", steps, new int[] {2 + 2 * rise, 2 + rise, 2, 2 + rise, 2 + 2 * rise});
         }
     }
 

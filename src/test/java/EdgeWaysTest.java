@@ -12,6 +12,7 @@ public final class EdgeWaysTest {
         goneDrowned();
         goneStuck();
         goneWaits();
+        goneFromACellThatIsTooDeep();
         goneAsIfItWalked();
         goneUnknown();
         goneBad();
@@ -19,6 +20,7 @@ public final class EdgeWaysTest {
         latestAtTheEnds();
         latestNone();
         latestWhateverIsNow();
+        latestWhateverTheStepIs();
         latestUnknown();
         safestBits();
         safestUpWhereItIsNotFull();
@@ -29,6 +31,7 @@ public final class EdgeWaysTest {
         shellsNotDrowned();
         shellsNotStuck();
         shellsNotAtAll();
+        shellsThoughNotAtOnce();
         shellsRefused();
         cutFromTheStepOn();
         cutByItsOwnCell();
@@ -73,7 +76,8 @@ public final class EdgeWaysTest {
     private static void goneBeginsThere() {
         Run r = run("if it begins there, at that STEP").bay("B0000000000" + "20" + "3" + "9" + "W10W35" + "S1S8");
         for (int step : new int[] {0, 1, 20, 39, 40}) {
-            r.still("gone(0, 9, " + step + ", 1)", step).still("gone(0, 0, " + step + ", 2)", step).still("gone(1, 9, " + step + ", 1)", step).still("gone(1, 0, " + step + ", 2)", step);
+            r.still("gone(0, 9, " + step + ", 1)", step).still("gone(0, 0, " + step + ", 2)", step).still("gone(1, 9, " + step + ", 1)", step)
+                .still("gone(1, 0, " + step + ", 2)", step);
         }
     }
 
@@ -84,33 +88,47 @@ public final class EdgeWaysTest {
         r.still("gone(1, 0, 35, 1)", 40).still("gone(1, 0, 36, 1)", NONE).still("gone(1, 9, 35, 2)", 40).still("gone(1, 9, 36, 2)", NONE);
         r.still("gone(2, 0, 37, 1)", 40).still("gone(2, 0, 38, 1)", NONE).still("gone(2, 9, 37, 2)", 40).still("gone(2, 9, 38, 2)", NONE);
         r.still("gone(0, 0, 40, 1)", NONE).still("gone(0, 9, 40, 2)", NONE).still("gone(0, 0, 0, 1)", 9).still("gone(0, 9, 0, 2)", 9);
-        r.still("gone(2, 7, 39, 1)", 40).still("gone(2, 6, 39, 1)", 40).still("gone(2, 5, 39, 1)", NONE).still("gone(2, 2, 39, 2)", 40).still("gone(2, 3, 39, 2)", 40).still("gone(2, 4, 39, 2)", NONE);
+        r.still("gone(2, 7, 39, 1)", 40).still("gone(2, 6, 39, 1)", 40).still("gone(2, 5, 39, 1)", NONE).still("gone(2, 2, 39, 2)", 40)
+            .still("gone(2, 3, 39, 2)", 40).still("gone(2, 4, 39, 2)", NONE);
     }
 
     private static void goneDrowned() {
         // By PACE 1 from CELL 5 it is on CELLS 6, 7, 8, 9 one, two, three, four STEPS later, and there last 3 STEPS later on the sands.
         Run r = run("till it is DROWNED").bay(TIDE + "W15");
         r.still("gone(0, 5, 22, 1)", 26).still("gone(0, 5, 23, 1)", NONE).still("gone(0, 4, 22, 2)", 26).still("gone(0, 4, 23, 2)", NONE);
-        r.still("gone(0, 8, 24, 1)", 25).still("gone(0, 7, 24, 1)", 26).still("gone(0, 7, 25, 1)", NONE).still("gone(0, 1, 25, 2)", 26).still("gone(0, 2, 25, 2)", NONE);
+        r.still("gone(0, 8, 24, 1)", 25).still("gone(0, 7, 24, 1)", 26).still("gone(0, 7, 25, 1)", NONE).still("gone(0, 1, 25, 2)", 26)
+            .still("gone(0, 2, 25, 2)", NONE);
     }
 
     private static void goneStuck() {
         // CELL 4 is 4 deep at 0, and is left free for one that wades 2 from 2 on.
         Run r = run("till it is STUCK").bay("B9999099999" + "04" + "1" + "0" + "W12" + "S3S5");
-        r.still("gone(0, 3, 0, 1)", NONE).still("gone(0, 3, 1, 1)", NONE).still("gone(0, 3, 2, 1)", 8).still("gone(0, 2, 0, 1)", NONE).still("gone(0, 2, 1, 1)", 8).still("gone(0, 1, 0, 1)", 8);
-        r.still("gone(0, 5, 0, 2)", NONE).still("gone(0, 5, 1, 2)", NONE).still("gone(0, 5, 2, 2)", 7).still("gone(0, 6, 0, 2)", NONE).still("gone(0, 6, 1, 2)", 7);
+        r.still("gone(0, 3, 0, 1)", NONE).still("gone(0, 3, 1, 1)", NONE).still("gone(0, 3, 2, 1)", 8).still("gone(0, 2, 0, 1)", NONE)
+            .still("gone(0, 2, 1, 1)", 8).still("gone(0, 1, 0, 1)", 8);
+        r.still("gone(0, 5, 0, 2)", NONE).still("gone(0, 5, 1, 2)", NONE).still("gone(0, 5, 2, 2)", 7).still("gone(0, 6, 0, 2)", NONE)
+            .still("gone(0, 6, 1, 2)", 7);
     }
 
     private static void goneWaits() {
         // On CELL 3, not soft, it waits for the water; on the shore too.
         Run r = run("it goes alone so, STEP by STEP").bay("B9999099999" + "04" + "1" + "0" + "W12W10");
         r.still("gone(0, 3, 0, 1)", 8).still("gone(0, 3, 2, 1)", 8).still("gone(0, 3, 6, 1)", NONE).still("gone(0, 5, 0, 2)", 7);
-        run("it waits on the shore").bay("B9000000009" + "20" + "1" + "0" + "W35").still("gone(0, 0, 0, 1)", 19).still("gone(0, 0, 15, 1)", 19).still("gone(0, 0, 16, 1)", 20);
+        run("it waits on the shore").bay("B9000000009" + "20" + "1" + "0" + "W35").still("gone(0, 0, 0, 1)", 19).still("gone(0, 0, 15, 1)", 19)
+            .still("gone(0, 0, 16, 1)", 20);
+    }
+
+    private static void goneFromACellThatIsTooDeep() {
+        // DROWNED is only who is too deep behind a STEP: to a shore that is near enough it still comes.
+        Run r = run("GONE from a CELL that is too deep").bay("B0000000000" + "00" + "3" + "9" + "W10W30");
+        r.still("gone(0, 8, 0, 1)", 1).still("gone(0, 1, 0, 2)", 1).still("gone(0, 8, 39, 1)", 40).still("gone(0, 8, 40, 1)", NONE);
+        r.still("gone(0, 7, 0, 1)", NONE).still("gone(0, 2, 0, 2)", NONE).still("gone(1, 7, 0, 1)", NONE).still("gone(1, 8, 0, 2)", NONE);
     }
 
     private static void goneAsIfItWalked() {
         Run r = Fates.reached(run("GONE from a CELL at a STEP: however it is now"));
-        for (int walker = 0; walker <= 4; walker++) r.still("gone(" + walker + ", 9, 3, 1)", 3).still("gone(" + walker + ", 0, 3, 2)", 3).still("gone(" + walker + ", 8, 2, 1)", 3);
+        for (int walker = 0; walker <= 4; walker++) {
+            r.still("gone(" + walker + ", 9, 3, 1)", 3).still("gone(" + walker + ", 0, 3, 2)", 3).still("gone(" + walker + ", 8, 2, 1)", 3);
+        }
     }
 
     private static void goneUnknown() {
@@ -124,13 +142,17 @@ public final class EdgeWaysTest {
     private static void goneBad() {
         Run r = run("gone: BAD: way (1 on, 2 back), step").bay(TIDE + "W35");
         for (String way : new String[] {"0", "3", "-1", "4", "MIN", "MAX"}) r.still("gone(0, 5, 5, " + way + ")", BAD);
-        for (String step : new String[] {"-1", "41", "42", "MIN", "MAX"}) r.still("gone(0, 5, " + step + ", 1)", BAD).still("gone(0, 9, " + step + ", 1)", BAD).still("gone(0, 0, " + step + ", 2)", BAD);
+        for (String step : new String[] {"-1", "41", "42", "MIN", "MAX"}) {
+            r.still("gone(0, 5, " + step + ", 1)", BAD).still("gone(0, 9, " + step + ", 1)", BAD).still("gone(0, 0, " + step + ", 2)", BAD);
+        }
         r.still("gone(0, 5, 41, 3)", BAD).still("gone(0, 9, 40, 1)", 40).still("gone(0, 0, 0, 2)", 0);
     }
 
     private static void goneRefusedTwice() {
         Run r = run("gone: UNKNOWN is told ahead of BAD").bay(TIDE + "W35");
-        for (String told : new String[] {"1, 0", "-1, 0", "0, 10", "0, -1"}) r.still("gone(" + told + ", 41, 1)", UNKNOWN).still("gone(" + told + ", 0, 0)", UNKNOWN).still("gone(" + told + ", -1, 3)", UNKNOWN);
+        for (String told : new String[] {"1, 0", "-1, 0", "0, 10", "0, -1"}) {
+            r.still("gone(" + told + ", 41, 1)", UNKNOWN).still("gone(" + told + ", 0, 0)", UNKNOWN).still("gone(" + told + ", -1, 3)", UNKNOWN);
+        }
     }
 
     // ---- promise 15
@@ -146,13 +168,20 @@ public final class EdgeWaysTest {
         run("LATEST: NONE, water all the time").bay("B0000000000" + "00" + "1" + "9" + "W35").still("latest(0)", NONE);
         run("LATEST: NONE, STUCK on CELL 2").bay("B9990999999" + "40" + "1" + "0" + "W30" + "S2").still("latest(0)", NONE);
         // CELL 1 is soft: who begins too soon is STUCK there, for CELL 2 is too deep; who begins too late is DROWNED on CELL 2.
-        run("LATEST: the last STEP, not the first").bay("B9909999999" + "20" + "1" + "0" + "W15" + "S1").still("gone(0, 0, 0, 1)", NONE).still("gone(0, 0, 13, 1)", NONE).still("gone(0, 0, 14, 1)", 23).still("latest(0)", 23).still("gone(0, 0, 23, 1)", 32).still("gone(0, 0, 24, 1)", NONE);
+        run("LATEST: the last STEP, not the first").bay("B9909999999" + "20" + "1" + "0" + "W15" + "S1").still("gone(0, 0, 0, 1)", NONE)
+            .still("gone(0, 0, 13, 1)", NONE).still("gone(0, 0, 14, 1)", 23).still("latest(0)", 23).still("gone(0, 0, 23, 1)", 32)
+            .still("gone(0, 0, 24, 1)", NONE);
     }
 
     private static void latestWhateverIsNow() {
         Run r = Fates.reached(run("LATEST: it begins on CELL 0, however it is now"));
         // WATER is as many as STEPS from 2.
         r.still("latest(0)", 4).still("latest(1)", NONE).still("latest(2)", NONE).still("latest(3)", NONE).still("latest(4)", NONE);
+    }
+
+    private static void latestWhateverTheStepIs() {
+        Run r = run("LATEST: the last STEP (0 .. 40), whatever THE STEP is").bay(TIDE + "W35").still("latest(0)", 22).times(23, "step()", 0);
+        r.still("latest(0)", 22).times(17, "step()", 0).still("latest(0)", 22).still("ahead()", 19).still("aheadOf(0)", 15);
     }
 
     private static void latestUnknown() {
@@ -207,16 +236,22 @@ public final class EdgeWaysTest {
 
     private static void safestOfLikeOnes() {
         // CELL 3 is 1 deep at 11: it goes on by two, to CELL 5; from there 8, 9 and 2, 0 are both at 14.
-        Run r = run("of like ones the least").bay("B9990999999" + "10" + "1" + "0" + "W35" + "T52").times(10, "step()", 0).does("head(0, 1)", 0).times(2, "step()", 0).where(0, 5, 0);
+        Run r = run("of like ones the least").bay("B9990999999" + "10" + "1" + "0" + "W35" + "T52").times(10, "step()", 0).does("head(0, 1)", 0)
+            .times(2, "step()", 0).where(0, 5, 0);
         r.still("gone(0, 5, 12, 1)", 14).still("gone(0, 5, 12, 2)", 14).still("safest(0, 0)", 7).still("safest(0, 1)", 2);
-        Run s = run("of like ones the least").bay("B9990999999" + "10" + "1" + "0" + "W35").times(10, "step()", 0).does("head(0, 1)", 0).times(2, "step()", 0).where(0, 5, 0);
+        Run s = run("of like ones the least").bay("B9990999999" + "10" + "1" + "0" + "W35").times(10, "step()", 0).does("head(0, 1)", 0)
+            .times(2, "step()", 0).where(0, 5, 0);
         s.still("safest(0, 0)", 3).still("safest(0, 1)", 0);
     }
 
     private static void safestRefused() {
         Run r = Fates.reached(run("safest: UNKNOWN; BAD; LATE: it does not WALK"));
-        for (String walker : new String[] {"-1", "5", "MIN", "MAX"}) r.still("safest(" + walker + ", 0)", UNKNOWN).still("safest(" + walker + ", 2)", UNKNOWN).still("safest(" + walker + ", -1)", UNKNOWN);
-        for (String what : new String[] {"-1", "2", "3", "MIN", "MAX"}) r.still("safest(4, " + what + ")", BAD).still("safest(0, " + what + ")", BAD).still("safest(1, " + what + ")", BAD);
+        for (String walker : new String[] {"-1", "5", "MIN", "MAX"}) {
+            r.still("safest(" + walker + ", 0)", UNKNOWN).still("safest(" + walker + ", 2)", UNKNOWN).still("safest(" + walker + ", -1)", UNKNOWN);
+        }
+        for (String what : new String[] {"-1", "2", "3", "MIN", "MAX"}) {
+            r.still("safest(4, " + what + ")", BAD).still("safest(0, " + what + ")", BAD).still("safest(1, " + what + ")", BAD);
+        }
         for (int walker = 0; walker <= 3; walker++) r.still("safest(" + walker + ", 0)", LATE).still("safest(" + walker + ", 1)", LATE);
         r.still("safest(4, 0)", 2).still("safest(4, 1)", 1);
     }
@@ -224,7 +259,8 @@ public final class EdgeWaysTest {
     // ---- promise 17
 
     private static void shellsAtTheEnds() {
-        run("SHELLS 0 .. 40: on the shore").bay("B0000000000" + "00" + "3" + "9" + "W10").still("shells(0)", 40).times(39, "step()", 0).still("shells(0)", 1).does("step()", 0).still("shells(0)", 0);
+        run("SHELLS 0 .. 40: on the shore").bay("B0000000000" + "00" + "3" + "9" + "W10").still("shells(0)", 40).times(39, "step()", 0)
+            .still("shells(0)", 1).does("step()", 0).still("shells(0)", 0);
         for (int cell = 1; cell <= 8; cell++) {
             int way = Math.min(cell, 9 - cell);
             standing("SHELLS on dry sands", "", cell, 20).still("shells(0)", 20 - way);
@@ -236,8 +272,10 @@ public final class EdgeWaysTest {
     private static void shellsNotDrowned() {
         // On CELL 1, as deep as STEPS are from 10; all else lies high. Back it comes at once however deep CELL 1 is.
         for (int wade = 1; wade <= 5; wade++) {
-            Run r = run("SHELLS: it is not DROWNED by that: " + wade).bay("B9099999999" + "10" + "1" + "0" + "W1" + wade).times(9, "step()", 0).does("head(0, 1)", 0).does("step()", 0).where(0, 1, 0);
-            r.still("shells(0)", wade).does("head(0, 0)", 1).times(wade, "step()", 0).still("shells(0)", 0).does("step()", 1).still("shells(0)", LATE);
+            Run r = run("SHELLS: it is not DROWNED by that: " + wade).bay("B9099999999" + "10" + "1" + "0" + "W1" + wade).times(9, "step()", 0)
+                .does("head(0, 1)", 0).does("step()", 0).where(0, 1, 0);
+            r.still("shells(0)", wade).does("head(0, 0)", 1).times(wade, "step()", 0).still("shells(0)", 0).does("step()", 1)
+                .still("shells(0)", LATE);
         }
     }
 
@@ -250,12 +288,24 @@ public final class EdgeWaysTest {
 
     private static void shellsNotAtAll() {
         // On CELL 3 amid water that comes: neither on nor back.
-        Run r = run("SHELLS: NONE: not at all").bay("B9909099999" + "02" + "1" + "0" + "W30").times(2, "step()", 0).does("head(0, 1)", 0).does("step()", 0).where(0, 3, 0).still("shells(0)", NONE).still("safest(0, 0)", 0);
+        Run r = run("SHELLS: NONE: not at all").bay("B9909099999" + "02" + "1" + "0" + "W30").times(2, "step()", 0).does("head(0, 1)", 0)
+            .does("step()", 0).where(0, 3, 0).still("shells(0)", NONE).still("safest(0, 0)", 0);
         r.does("head(0, 0)", 1).does("step()", 0).still("shells(0)", NONE);
         // Between CELLS 1 and 4, which lie low: till 25 it can still go back over CELL 1.
         String between = "B9099099999" + "20" + "1" + "0" + "W25";
-        run("SHELLS: by going then").bay(between).times(14, "step()", 0).does("head(0, 1)", 0).times(2, "step()", 0).where(0, 2, 0).still("shells(0)", 9);
-        run("SHELLS: by going then, on a SOFT one").bay(between + "S2").times(14, "step()", 0).does("head(0, 1)", 0).times(2, "step()", 0).where(0, 2, 0).still("shells(0)", 0);
+        run("SHELLS: by going then").bay(between).times(14, "step()", 0).does("head(0, 1)", 0).times(2, "step()", 0).where(0, 2, 0)
+            .still("shells(0)", 9);
+        run("SHELLS: by going then, on a SOFT one").bay(between + "S2").times(14, "step()", 0).does("head(0, 1)", 0).times(2, "step()", 0)
+            .where(0, 2, 0).still("shells(0)", 0);
+    }
+
+    private static void shellsThoughNotAtOnce() {
+        // On CELL 6 at 36: at once it would be STUCK on CELL 7, for CELL 8 is too deep till 38, and back it would come at 42.
+        // One STEP later it goes on and is over at 40.
+        Run r = run("SHELLS: at most, though it can not go at once").bay("B0867986701" + "39" + "2" + "2" + "W14" + "S1S7S8");
+        r.times(30, "step()", 0).does("head(0, 1)", 0).times(6, "step()", 0).where(0, 6, 0).still("safest(0, 0)", 0).still("saved()", 0);
+        r.still("shells(0)", 1).does("head(0, 0)", 1).does("step()", 0).still("shells(0)", 0).still("safest(0, 0)", 1).still("gone(0, 6, 37, 1)", 40);
+        r.does("step()", 0).still("shells(0)", NONE);
     }
 
     private static void shellsRefused() {
@@ -270,33 +320,42 @@ public final class EdgeWaysTest {
 
     private static void cutFromTheStepOn() {
         // On CELL 2, high; CELL 1 is as deep as STEPS are from 10: too deep behind 10 + 2.
-        Run r = run("CUT: from THE STEP on").bay("B9099999999" + "10" + "1" + "0" + "W22").times(9, "step()", 0).does("head(0, 1)", 0).does("step()", 0).where(0, 2, 0).does("head(0, 0)", 1);
-        r.still("cut(0)", 13).times(2, "step()", 0).still("cut(0)", 13).does("step()", 0).still("cut(0)", 13).does("step()", 0).still("cut(0)", 14).times(26, "step()", 0).still("cut(0)", 40);
+        Run r = run("CUT: from THE STEP on").bay("B9099999999" + "10" + "1" + "0" + "W22").times(9, "step()", 0).does("head(0, 1)", 0)
+            .does("step()", 0).where(0, 2, 0).does("head(0, 0)", 1);
+        r.still("cut(0)", 13).times(2, "step()", 0).still("cut(0)", 13).does("step()", 0).still("cut(0)", 13).does("step()", 0).still("cut(0)", 14)
+            .times(26, "step()", 0).still("cut(0)", 40);
     }
 
     private static void cutByItsOwnCell() {
         // CELL 3 is its own one, CELL 2 lies higher, CELL 4 lower.
         String bay = "B9952099999" + "10" + "1" + "0" + "W31";
-        Run r = run("CUT: from its own CELL back").bay(bay).times(9, "step()", 0).does("head(0, 1)", 0).does("step()", 0).where(0, 3, 0).still("cell(3, 0)", 2).still("cut(0)", 14);
+        Run r = run("CUT: from its own CELL back").bay(bay).times(9, "step()", 0).does("head(0, 1)", 0).does("step()", 0).where(0, 3, 0)
+            .still("cell(3, 0)", 2).still("cut(0)", 14);
         r.does("head(0, 0)", 1).times(3, "step()", 0).still("cut(0)", 14);
-        run("CUT: a CELL behind").bay("B9925099999" + "10" + "1" + "0" + "W31").times(9, "step()", 0).does("head(0, 1)", 0).does("step()", 0).where(0, 3, 0).still("cut(0)", 14);
-        run("CUT: the CELL ahead does not count").bay("B9999099999" + "10" + "1" + "0" + "W31").times(9, "step()", 0).does("head(0, 1)", 0).does("step()", 0).where(0, 3, 0).still("cut(0)", NONE);
+        run("CUT: a CELL behind").bay("B9925099999" + "10" + "1" + "0" + "W31").times(9, "step()", 0).does("head(0, 1)", 0).does("step()", 0)
+            .where(0, 3, 0).still("cut(0)", 14);
+        run("CUT: the CELL ahead does not count").bay("B9999099999" + "10" + "1" + "0" + "W31").times(9, "step()", 0).does("head(0, 1)", 0)
+            .does("step()", 0).where(0, 3, 0).still("cut(0)", NONE);
     }
 
     private static void cutByOneDeeper() {
         for (int wade = 1; wade <= 5; wade++) {
-            Run r = run("CUT: deeper than it wades: " + wade).bay("B9099999999" + "10" + "1" + "0" + "W1" + wade).times(9, "step()", 0).does("head(0, 1)", 0).does("step()", 0).where(0, 1, 0);
+            Run r = run("CUT: deeper than it wades: " + wade).bay("B9099999999" + "10" + "1" + "0" + "W1" + wade).times(9, "step()", 0)
+                .does("head(0, 1)", 0).does("step()", 0).where(0, 1, 0);
             r.still("cut(0)", 11 + wade);
         }
     }
 
     private static void cutBy40() {
-        run("CUT at 40").bay("B9099999999" + "37" + "1" + "0" + "W22").times(36, "step()", 0).does("head(0, 1)", 0).does("step()", 0).where(0, 2, 0).still("cut(0)", 40).times(3, "step()", 0).still("cut(0)", 40);
-        run("CUT: NONE: not by 40").bay("B9099999999" + "38" + "1" + "0" + "W22").times(36, "step()", 0).does("head(0, 1)", 0).does("step()", 0).where(0, 2, 0).still("cut(0)", NONE).times(3, "step()", 0).still("cut(0)", NONE);
+        run("CUT at 40").bay("B9099999999" + "37" + "1" + "0" + "W22").times(36, "step()", 0).does("head(0, 1)", 0).does("step()", 0).where(0, 2, 0)
+            .still("cut(0)", 40).times(3, "step()", 0).still("cut(0)", 40);
+        run("CUT: NONE: not by 40").bay("B9099999999" + "38" + "1" + "0" + "W22").times(36, "step()", 0).does("head(0, 1)", 0).does("step()", 0)
+            .where(0, 2, 0).still("cut(0)", NONE).times(3, "step()", 0).still("cut(0)", NONE);
     }
 
     private static void cutOnTheShores() {
-        run("CUT on CELL 0: nothing is deep there").bay("B0000000000" + "00" + "3" + "9" + "W10").still("cut(0)", NONE).times(40, "step()", 0).still("cut(0)", NONE);
+        run("CUT on CELL 0: nothing is deep there").bay("B0000000000" + "00" + "3" + "9" + "W10").still("cut(0)", NONE).times(40, "step()", 0)
+            .still("cut(0)", NONE);
         Run r = Fates.reached(run("CUT for one that is OVER, DROWNED, STUCK, UP"));
         r.still("cut(0)", 8).still("cut(1)", 4).still("cut(2)", 8).still("cut(3)", 8).still("cut(4)", NONE);
     }
@@ -316,42 +375,55 @@ public final class EdgeWaysTest {
         for (int n = 1; n <= 8; n++) {
             most *= 10;
             ones = 10 * ones + 1;
-            r.still("judged(0, " + n + ", " + ones + ")", NONE).still("judged(0, " + n + ", 0)", NONE).still("judged(0, " + n + ", " + 2 * ones + ")", NONE);
+            r.still("judged(0, " + n + ", " + ones + ")", NONE).still("judged(0, " + n + ", 0)", NONE)
+                .still("judged(0, " + n + ", " + 2 * ones + ")", NONE);
             r.still("judged(0, " + n + ", " + (most - 1) + ")", 0).still("judged(0, " + n + ", " + most + ")", BAD);
         }
-        for (String n : new String[] {"0", "9", "-1", "10", "MIN", "MAX"}) r.still("judged(0, " + n + ", 0)", BAD).still("judged(0, " + n + ", 1)", BAD);
+        for (String n : new String[] {"0", "9", "-1", "10", "MIN", "MAX"}) {
+            r.still("judged(0, " + n + ", 0)", BAD).still("judged(0, " + n + ", 1)", BAD);
+        }
     }
 
     private static void judgedReadFromTheFirst() {
         Run r = run("JUDGED: the place (0 the first)").bay(DRY + "W30");
         r.still("judged(0, 4, 1113)", 3).still("judged(0, 4, 3111)", 0).still("judged(0, 4, 1311)", 1).still("judged(0, 4, 1131)", 2);
-        r.still("judged(0, 8, 3)", 7).still("judged(0, 8, 30)", 6).still("judged(0, 8, 30000000)", 0).still("judged(0, 8, 3000000)", 1).still("judged(0, 3, 3)", 2).still("judged(0, 1, 3)", 0);
+        r.still("judged(0, 8, 3)", 7).still("judged(0, 8, 30)", 6).still("judged(0, 8, 30000000)", 0).still("judged(0, 8, 3000000)", 1)
+            .still("judged(0, 3, 3)", 2).still("judged(0, 1, 3)", 0);
         r.still("judged(0, 8, 11)", NONE).still("judged(0, 8, 1110)", 7).still("judged(0, 8, 1111)", 7).still("judged(0, 8, 111)", NONE);
     }
 
     private static void judgedRow() {
         Run r = run("judged: BAD: row (0 or more, n figures at most)").bay(DRY + "W10");
-        r.still("judged(0, 1, -1)", BAD).still("judged(0, 8, -1)", BAD).still("judged(0, 8, MIN)", BAD).still("judged(0, 8, MAX)", BAD).still("judged(0, 1, 10)", BAD).still("judged(0, 1, 9)", 0);
-        r.still("judged(0, 7, 10000000)", BAD).still("judged(0, 7, 9999999)", 0).still("judged(0, 8, 99999999)", 0).still("judged(0, 8, 100000000)", BAD).still("judged(0, 9, 100000000)", BAD).still("judged(0, 0, -1)", BAD);
+        r.still("judged(0, 1, -1)", BAD).still("judged(0, 8, -1)", BAD).still("judged(0, 8, MIN)", BAD).still("judged(0, 8, MAX)", BAD)
+            .still("judged(0, 1, 10)", BAD).still("judged(0, 1, 9)", 0);
+        r.still("judged(0, 7, 10000000)", BAD).still("judged(0, 7, 9999999)", 0).still("judged(0, 8, 99999999)", 0)
+            .still("judged(0, 8, 100000000)", BAD).still("judged(0, 9, 100000000)", BAD).still("judged(0, 0, -1)", BAD);
     }
 
     private static void judgedDrownedOrStuck() {
         // CELL 1 is bare at 0, 1 deep at 1, and so on.
-        Run r = run("JUDGED: by which it is DROWNED").bay("B9099999999" + "00" + "1" + "0" + "W12W10").still("judged(0, 2, 10)", NONE).still("judged(0, 3, 100)", 2).still("judged(0, 8, 10000000)", 2).still("judged(1, 1, 1)", 0).still("judged(1, 8, 11111111)", 0);
+        Run r = run("JUDGED: by which it is DROWNED").bay("B9099999999" + "00" + "1" + "0" + "W12W10").still("judged(0, 2, 10)", NONE)
+            .still("judged(0, 3, 100)", 2).still("judged(0, 8, 10000000)", 2).still("judged(1, 1, 1)", 0).still("judged(1, 8, 11111111)", 0);
         r.still("judged(0, 3, 102)", NONE).still("judged(0, 3, 101)", NONE);
-        Run s = run("JUDGED: by which it is STUCK").bay(DRY + "W10" + "S1S8").still("judged(0, 2, 10)", 1).still("judged(0, 8, 10000000)", 1).still("judged(0, 3, 112)", NONE).still("judged(0, 4, 1120)", 3).still("judged(0, 8, 11111111)", NONE);
-        s.still("judged(0, 8, 11111110)", NONE).times(3, "step()", 0).does("head(0, 1)", 0).does("step()", 0).still("judged(0, 8, 11111110)", 7).still("judged(0, 1, 0)", 0);
+        Run s = run("JUDGED: by which it is STUCK").bay(DRY + "W10" + "S1S8").still("judged(0, 2, 10)", 1).still("judged(0, 8, 10000000)", 1)
+            .still("judged(0, 3, 112)", NONE).still("judged(0, 4, 1120)", 3).still("judged(0, 8, 11111111)", NONE);
+        s.still("judged(0, 8, 11111110)", NONE).times(3, "step()", 0).does("head(0, 1)", 0).does("step()", 0).still("judged(0, 8, 11111110)", 7)
+            .still("judged(0, 1, 0)", 0);
     }
 
     private static void judgedDoesNotWalk() {
-        Run r = run("JUDGED: it does not WALK then").bay(DRY + "W30").still("judged(0, 3, 111)", NONE).still("judged(0, 4, 1110)", 3).still("judged(0, 4, 1111)", 3).still("judged(0, 4, 1112)", 3).still("judged(0, 8, 11100000)", 3);
+        Run r = run("JUDGED: it does not WALK then").bay(DRY + "W30").still("judged(0, 3, 111)", NONE).still("judged(0, 4, 1110)", 3)
+            .still("judged(0, 4, 1111)", 3).still("judged(0, 4, 1112)", 3).still("judged(0, 8, 11100000)", 3);
         r.still("judged(0, 5, 11211)", NONE).still("judged(0, 5, 11011)", 4).still("judged(0, 8, 12121111)", 7);
         Run s = Fates.reached(run("JUDGED: it does not WALK now"));
-        for (int walker = 0; walker <= 3; walker++) for (int figure = 0; figure <= 3; figure++) s.still("judged(" + walker + ", 1, " + figure + ")", 0).still("judged(" + walker + ", 8, " + figure + ")", 0);
+        for (int walker = 0; walker <= 3; walker++) for (int figure = 0; figure <= 3; figure++) {
+            s.still("judged(" + walker + ", 1, " + figure + ")", 0).still("judged(" + walker + ", 8, " + figure + ")", 0);
+        }
     }
 
     private static void judgedAt40() {
-        Run r = run("JUDGED: THE STEP is 40").bay(DRY + "W10").times(33, "step()", 0).still("judged(0, 7, 0)", NONE).still("judged(0, 8, 0)", 7).times(6, "step()", 0).still("judged(0, 1, 1)", NONE).still("judged(0, 2, 11)", 1).does("step()", 0);
+        Run r = run("JUDGED: THE STEP is 40").bay(DRY + "W10").times(33, "step()", 0).still("judged(0, 7, 0)", NONE).still("judged(0, 8, 0)", 7)
+            .times(6, "step()", 0).still("judged(0, 1, 1)", NONE).still("judged(0, 2, 11)", 1).does("step()", 0);
         for (int figure = 0; figure <= 3; figure++) r.still("judged(0, 1, " + figure + ")", 0);
         r.still("judged(0, 8, 11111111)", 0);
         // Over just at 40.
@@ -360,29 +432,38 @@ public final class EdgeWaysTest {
 
     private static void judgedAnotherFigure() {
         Run r = run("JUDGED: another figure").bay(DRY + "W10");
-        for (int figure = 0; figure <= 9; figure++) r.still("judged(0, 1, " + figure + ")", figure <= 2 ? NONE : 0).still("judged(0, 2, 1" + figure + ")", figure <= 2 ? NONE : 1);
+        for (int figure = 0; figure <= 9; figure++) {
+            r.still("judged(0, 1, " + figure + ")", figure <= 2 ? NONE : 0).still("judged(0, 2, 1" + figure + ")", figure <= 2 ? NONE : 1);
+        }
         // It is DROWNED ahead of the other figure.
-        run("JUDGED: the first of both").bay("B9099999999" + "00" + "1" + "0" + "W10").still("judged(0, 2, 13)", 0).still("judged(0, 2, 3)", 1).still("judged(0, 2, 31)", 0);
+        run("JUDGED: the first of both").bay("B9099999999" + "00" + "1" + "0" + "W10").still("judged(0, 2, 13)", 0).still("judged(0, 2, 3)", 1)
+            .still("judged(0, 2, 31)", 0);
     }
 
     private static void judgedAsItIsNow() {
         // From CELL 4 at STEP 20, whichever way it HEADS.
-        Run r = standing("JUDGED: as it is now", "", 4, 20).still("judged(0, 5, 11111)", NONE).still("judged(0, 6, 111110)", 5).still("judged(0, 5, 22222)", NONE).still("judged(0, 8, 22220000)", NONE);
+        Run r = standing("JUDGED: as it is now", "", 4, 20).still("judged(0, 5, 11111)", NONE).still("judged(0, 6, 111110)", 5)
+            .still("judged(0, 5, 22222)", NONE).still("judged(0, 8, 22220000)", NONE);
         r.does("head(0, 2)", 1).still("judged(0, 5, 11111)", NONE).still("judged(0, 6, 111110)", 5);
     }
 
     private static void judgedRefused() {
         Run r = run("judged: UNKNOWN is told ahead of BAD").bay(DRY + "W10");
-        for (String walker : new String[] {"-1", "1", "5", "MIN", "MAX"}) r.still("judged(" + walker + ", 1, 0)", UNKNOWN).still("judged(" + walker + ", 0, 0)", UNKNOWN).still("judged(" + walker + ", 9, -1)", UNKNOWN).still("judged(" + walker + ", 1, 10)", UNKNOWN);
+        for (String walker : new String[] {"-1", "1", "5", "MIN", "MAX"}) {
+            r.still("judged(" + walker + ", 1, 0)", UNKNOWN).still("judged(" + walker + ", 0, 0)", UNKNOWN)
+                .still("judged(" + walker + ", 9, -1)", UNKNOWN).still("judged(" + walker + ", 1, 10)", UNKNOWN);
+        }
         run("judged: UNKNOWN, nobody").still("judged(0, 1, 0)", UNKNOWN);
         // BAD is told, though it does not WALK.
-        Fates.reached(run("judged: BAD for one that does not WALK")).still("judged(0, 0, 0)", BAD).still("judged(1, 1, 10)", BAD).still("judged(3, 9, 0)", BAD);
+        Fates.reached(run("judged: BAD for one that does not WALK")).still("judged(0, 0, 0)", BAD).still("judged(1, 1, 10)", BAD)
+            .still("judged(3, 9, 0)", BAD);
     }
 
     // ---- promises 20 and 21
 
     private static void aheadSoonest() {
-        Run r = run("AHEAD: that the soonest there can be").bay(DRY + "W10W20W30").still("ahead()", 9).still("aheadOf(0)", 0).still("aheadOf(1)", 4).still("aheadOf(2)", 6);
+        Run r = run("AHEAD: that the soonest there can be").bay(DRY + "W10W20W30").still("ahead()", 9).still("aheadOf(0)", 0).still("aheadOf(1)", 4)
+            .still("aheadOf(2)", 6);
         r.does("head(0, 1)", 0).times(5, "step()", 0).still("ahead()", 9).still("aheadOf(2)", 6);
         run("AHEAD of one").bay(DRY + "W20").still("ahead()", 5).still("aheadOf(0)", 0);
         run("AHEAD of five").bay(DRY + "W30W30W30W30W30").still("ahead()", 3).still("aheadOf(0)", 0).still("aheadOf(4)", 0);
@@ -391,12 +472,14 @@ public final class EdgeWaysTest {
     private static void aheadAtTheEnds() {
         run("AHEAD at 40").bay("B3333333333" + "40" + "1" + "0" + "W30W30").still("ahead()", 40).still("aheadOf(0)", 37).still("aheadOf(1)", 37);
         run("AHEAD: not by 40").bay("B2222222222" + "40" + "1" + "0" + "W30").still("ahead()", NONE).still("aheadOf(0)", NONE);
-        run("AHEAD: it begins at 0").bay("B0000000000" + "00" + "1" + "0" + "W33W33").still("ahead()", 4).still("aheadOf(0)", 0).still("aheadOf(1)", 0);
+        run("AHEAD: it begins at 0").bay("B0000000000" + "00" + "1" + "0" + "W33W33").still("ahead()", 4).still("aheadOf(0)", 0)
+            .still("aheadOf(1)", 0);
     }
 
     private static void aheadLastBegin() {
         // Pace 3 waits till 15 and is over at 19; whoever begins at 0 .. 15 is over just then.
-        run("the last STEP by which it is OVER just then").bay(TIDE + "W35").still("ahead()", 19).still("aheadOf(0)", 15).still("gone(0, 0, 0, 1)", 19).still("gone(0, 0, 15, 1)", 19).still("gone(0, 0, 16, 1)", 20);
+        run("the last STEP by which it is OVER just then").bay(TIDE + "W35").still("ahead()", 19).still("aheadOf(0)", 15)
+            .still("gone(0, 0, 0, 1)", 19).still("gone(0, 0, 15, 1)", 19).still("gone(0, 0, 16, 1)", 20);
         run("the last STEP by which it is OVER just then").bay(TIDE + "W35W25").still("ahead()", 22).still("aheadOf(0)", 18).still("aheadOf(1)", 15);
     }
 
@@ -410,7 +493,8 @@ public final class EdgeWaysTest {
 
     private static void aheadRefused() {
         run("ahead: LATE: there is nobody").still("ahead()", LATE).still("aheadOf(0)", UNKNOWN);
-        Run r = run("ahead: LATE: there is nobody, in a bay").bay(DRY + "T11S2").still("ahead()", LATE).still("aheadOf(0)", UNKNOWN).bay(DRY + "W10").still("ahead()", 9);
+        Run r = run("ahead: LATE: there is nobody, in a bay").bay(DRY + "T11S2").still("ahead()", LATE).still("aheadOf(0)", UNKNOWN).bay(DRY + "W10")
+            .still("ahead()", 9);
         for (String walker : new String[] {"-1", "1", "5", "MIN", "MAX"}) r.still("aheadOf(" + walker + ")", UNKNOWN);
         // UNKNOWN ahead of NONE.
         run("aheadOf: UNKNOWN").bay(TIDE + "W20").still("aheadOf(0)", NONE).still("aheadOf(1)", UNKNOWN).still("aheadOf(-1)", UNKNOWN);
@@ -423,7 +507,8 @@ public final class EdgeWaysTest {
 
     private static void savedAtTheEnds() {
         run("SAVED: nobody").still("saved()", 0).bay(DRY + "T11").still("saved()", 0);
-        run("SAVED: all on the shore").bay("B0000000000" + "00" + "3" + "9" + "W10W10W10W10W10").still("saved()", 5).times(40, "step()", 0).still("saved()", 5);
+        run("SAVED: all on the shore").bay("B0000000000" + "00" + "3" + "9" + "W10W10W10W10W10").still("saved()", 5).times(40, "step()", 0)
+            .still("saved()", 5);
         Run r = run("SAVED: none").bay("B0000000000" + "00" + "1" + "0" + "W10W10W10W10W10");
         for (int walker = 0; walker <= 4; walker++) r.does("head(" + walker + ", 1)", 0);
         r.does("step()", 31).still("saved()", 0);
@@ -448,7 +533,8 @@ public final class EdgeWaysTest {
             r.still("climb(0)", OverSands.FULL).still("saved()", room);
         }
         // Two are there, four could go up.
-        Run s = run("SAVED: no more than there are").bay(DRY + "W10W10W10" + "T14").does("head(0, 1)", 0).does("head(1, 1)", 0).does("step()", 0).does("head(0, 0)", 1).does("head(1, 0)", 1).times(39, "step()", 0);
+        Run s = run("SAVED: no more than there are").bay(DRY + "W10W10W10" + "T14").does("head(0, 1)", 0).does("head(1, 1)", 0).does("step()", 0)
+            .does("head(0, 0)", 1).does("head(1, 0)", 1).times(39, "step()", 0);
         s.still("saved()", 3).does("climb(0)", 1).still("saved()", 3);
         // Those for whom back is safe take no room.
         Run t = run("SAVED: who is safe takes no room").bay(DRY + "W10W10W10" + "T11");
@@ -463,7 +549,8 @@ public final class EdgeWaysTest {
     }
 
     private static void savedOnlyWhoWalks() {
-        Run r = Fates.reached(run("SAVED: who is DROWNED or STUCK lives not, where a TOWER has room"), "B0000000000" + "02" + "1" + "0" + "W35W10W15W15W15" + "S1T14");
+        String roomy = "B0000000000" + "02" + "1" + "0" + "W35W10W15W15W15" + "S1T14";
+        Run r = Fates.reached(run("SAVED: who is DROWNED or STUCK lives not, where a TOWER has room"), roomy);
         r.still("saved()", 3).times(36, "step()", 0).still("saved()", 3);
     }
 
