@@ -230,6 +230,7 @@ public final class EdgeChancesTest {
         // Bare from 37 on by LOW 40: just over at 40. By LOW 41 it would be bare from 38 on.
         Run r = run("WIND: LOW is 40 most").bay("B0333333330" + "40" + "1" + "0" + "W30").still("latest(0)", 37);
         fraction(r, "wind(0, 37, 0, 10", 1, 1);
+        fraction(r, "wind(0, 0, 0, 10", 1, 1);
         fraction(r, "wind(0, 37, 10, 0", 1, 1);
         fraction(r, "wind(0, 37, 3, 3", 1, 1);
         fraction(r, "wind(0, 38, 3, 3", 0, 1);

@@ -9,6 +9,7 @@ public final class EdgeWaysTest {
     public static void main(String[] args) {
         goneBeginsThere();
         goneTill40();
+        goneByAll40Steps();
         goneDrowned();
         goneStuck();
         goneWaits();
@@ -90,6 +91,13 @@ public final class EdgeWaysTest {
         r.still("gone(0, 0, 40, 1)", NONE).still("gone(0, 9, 40, 2)", NONE).still("gone(0, 0, 0, 1)", 9).still("gone(0, 9, 0, 2)", 9);
         r.still("gone(2, 7, 39, 1)", 40).still("gone(2, 6, 39, 1)", 40).still("gone(2, 5, 39, 1)", NONE).still("gone(2, 2, 39, 2)", 40)
             .still("gone(2, 3, 39, 2)", 40).still("gone(2, 4, 39, 2)", NONE);
+    }
+
+    private static void goneByAll40Steps() {
+        // Bare from 37 on: from 0 on it waits on the shore, then it goes by CELLS 3, 6, 9 (or back by 6, 3, 0), and is there just at 40.
+        Run r = run("it goes STEP by STEP, from STEP 0 till THE STEP is 40").bay("B3333333333" + "40" + "1" + "0" + "W30");
+        for (int step : new int[] {0, 1, 36, 37}) r.still("gone(0, 0, " + step + ", 1)", 40).still("gone(0, 9, " + step + ", 2)", 40);
+        r.still("gone(0, 0, 38, 1)", NONE).still("gone(0, 9, 38, 2)", NONE);
     }
 
     private static void goneDrowned() {
