@@ -123,6 +123,7 @@ public final class EdgeChancesTest {
         r.still("channel(4, 4, 5, 6, 1, true)", BAD).still("channel(4, 4, 10, 1, 1, true)", BAD).still("channel(4, 4, 1, 10, 1, true)", BAD)
             .still("channel(4, 4, 10, 10, 1, true)", BAD);
         r.still("channel(4, 4, 11, -1, 1, true)", BAD).still("channel(4, 4, -1, 11, 1, true)", BAD).still("channel(4, 4, MAX, 1, 1, true)", BAD)
+            .still("channel(4, 4, 1, MAX, 1, true)", BAD).still("channel(4, 4, 10, MAX, 1, true)", BAD).still("channel(4, 4, MAX, 10, 1, true)", BAD)
             .still("channel(4, 4, MIN, MAX, 1, true)", BAD);
         for (String n : new String[] {"-1", "6", "MIN", "MAX"}) {
             r.still("channel(4, 4, 2, 3, " + n + ", true)", BAD).still("channel(4, 4, 0, 0, " + n + ", false)", BAD);
@@ -275,7 +276,8 @@ public final class EdgeChancesTest {
                 .still("wind(0, 5, " + a + ", " + a + ", true)", BAD);
         }
         r.still("wind(0, 5, 5, 6, true)", BAD).still("wind(0, 5, 6, 5, true)", BAD).still("wind(0, 5, 10, 1, true)", BAD)
-            .still("wind(0, 5, 11, -1, true)", BAD).still("wind(0, 5, -1, 11, true)", BAD).still("wind(0, 5, MAX, MIN, true)", BAD);
+            .still("wind(0, 5, 11, -1, true)", BAD).still("wind(0, 5, -1, 11, true)", BAD).still("wind(0, 5, MAX, MIN, true)", BAD)
+            .still("wind(0, 5, 1, MAX, true)", BAD).still("wind(0, 5, MAX, 1, true)", BAD);
         r.still("wind(0, 0, 5, 5, true)", 1).still("wind(0, 40, 10, 0, true)", 0).still("wind(0, 0, 0, 10, true)", 1);
     }
 

@@ -42,6 +42,7 @@ public final class EdgeTextTest {
         bayKeepsTheTextAndTheSeed();
         bayHasNoActsAndNothingKept();
         bayStandsAllOnCell0();
+        bayStandsAllFiveThatWereOver();
         bayWithAFault();
         CHECK.end();
     }
@@ -380,6 +381,13 @@ public final class EdgeTextTest {
             r.asks("walker(" + walker + ", 2)", 0).asks("walker(" + walker + ", 3)", 0).asks("walker(" + walker + ", 4)", 0);
         }
         r.asks("cell(1, 4)", 0).asks("about(8)", 0).asks("about(9)", 0).asks("about(10)", 0).asks("about(11)", 0);
+    }
+
+    private static void bayStandsAllFiveThatWereOver() {
+        Run r = run("all WALKERS STAND on CELL 0, though each of the five was OVER").bay("B9999999999" + "00" + "1" + "0" + "W30W30W30W30W30");
+        for (int walker = 0; walker <= 4; walker++) r.does("head(" + walker + ", 1)", 0);
+        r.times(3, "step()", 0).asks("about(8)", 31).does("bay()", 50).asks("about(7)", 31).asks("about(8)", 0);
+        for (int walker = 0; walker <= 4; walker++) r.where(walker, 0, 0).asks("walker(" + walker + ", 3)", 0);
     }
 
     private static void bayWithAFault() {

@@ -58,6 +58,8 @@ public final class EdgeWaysTest {
         savedByTowers();
         savedOnlyWhoWalks();
         savedAt40();
+        eachByItsOwnPaceAndWade();
+        eachAsIfItWereAlone();
         CHECK.end();
     }
 
@@ -569,5 +571,69 @@ public final class EdgeWaysTest {
         standing("SAVED: over no more by 40", "", 8, 40).still("saved()", 0);
         standing("SAVED: neither by 40", "", 4, 37).still("saved()", 0);
         standing("SAVED: back just by 40", "", 4, 36).still("saved()", 1);
+    }
+
+    // ---- all of them, of one that is not WALKER 0
+
+    /** WALKER 1 is slow and wades 2; WALKER 0, that stays on the shore, would come farther from everywhere. */
+    private static Run slowOne(String sentence, int steps) {
+        Run r = run(sentence).bay(TIDE + "W35W12").times(18, "step()", 0).does("head(1, 1)", 0).times(steps, "step()", 0);
+        return r.where(1, steps, 0).asks("about(2)", 18 + steps);
+    }
+
+    private static void eachByItsOwnPaceAndWade() {
+        slowOne("SHELLS by how deep it wades itself", 1).still("shells(1)", 3).still("safest(1, 0)", 2).still("cut(1)", 23);
+        slowOne("SHELLS by its own PACE", 2).still("shells(1)", 1).still("safest(1, 0)", 2).still("safest(1, 1)", 1).still("saved()", 2);
+        // On CELL 3 at 21, 1 deep: at 23 it is 3 deep, and it is on CELL 5, or on CELL 1.
+        Run r = slowOne("on and back are safe for WALKER 0 from there, not for it", 3).still("safest(1, 0)", 0).still("safest(1, 1)", NONE);
+        r.still("shells(1)", NONE).still("saved()", 1).still("cut(1)", 23).still("judged(1, 2, 11)", 1).still("judged(1, 2, 22)", 1);
+        r.still("gone(1, 3, 21, 1)", NONE).still("gone(1, 3, 21, 2)", NONE).still("gone(0, 3, 21, 1)", 24).still("gone(0, 3, 21, 2)", 23);
+        r.still("latest(0)", 22).still("latest(1)", NONE).still("ahead()", NONE);
+    }
+
+    private static final String[] KINDS = {"W12", "W35", "W10", "W23", "W31"};
+
+    /** All of them HEAD on at 16, and so many STEPS go by; one alone is WALKER 0. */
+    private static OverSands goingOn(String walkers, int steps) {
+        OverSands x = Check.bayOf("B0110210120" + "20" + "1" + "0" + walkers + "S3S6");
+        Check.steps(x, 16);
+        for (int walker = 0; walker < walkers.length() / 3; walker++) x.head(walker, 1);
+        Check.steps(x, steps);
+        return x;
+    }
+
+    private static void eachAsIfItWereAlone() {
+        for (int steps = 0; steps <= 12; steps++) {
+            int saved = 0;
+            for (int walker = 0; walker < KINDS.length; walker++) {
+                OverSands all = goingOn(String.join("", KINDS), steps);
+                OverSands one = goingOn(KINDS[walker], steps);
+                alike("at " + (16 + steps) + " of " + KINDS[walker] + ": ", all, walker, one);
+                saved += one.saved();
+            }
+            CHECK.due("SAVED, where no TOWER is: those that live alone, at " + (16 + steps), goingOn(String.join("", KINDS), steps).saved(), saved);
+        }
+    }
+
+    /** Five that are unlike, none in another's way: of each what it would be alone. */
+    private static void alike(String when, OverSands all, int walker, OverSands one) {
+        for (int what = 0; what <= 4; what++) CHECK.due(when + "walker, " + what, all.walker(walker, what), one.walker(0, what));
+        for (int what = 0; what <= 1; what++) CHECK.due(when + "safest, " + what, all.safest(walker, what), one.safest(0, what));
+        CHECK.due(when + "shells", all.shells(walker), one.shells(0));
+        CHECK.due(when + "cut", all.cut(walker), one.cut(0));
+        CHECK.due(when + "latest", all.latest(walker), one.latest(0));
+        for (int row : new int[] {11111111, 22222222, 0, 11122222, 10101010, 12121212}) {
+            CHECK.due(when + "judged " + row, all.judged(walker, 8, row), one.judged(0, 8, row));
+        }
+        for (int cell = 0; cell <= 9; cell++) for (int step = 14; step <= 26; step += 3) for (int way = 1; way <= 2; way++) {
+            CHECK.due(when + "gone from " + cell + " at " + step, all.gone(walker, cell, step, way), one.gone(0, cell, step, way));
+        }
+        for (int t = 14; t <= 26; t++) CHECK.due(when + "wind at " + t, all.wind(walker, t, 2, 3, true), one.wind(0, t, 2, 3, true));
+        for (int seed = 1; seed <= 20; seed++) {
+            all.seed(seed);
+            one.seed(seed);
+            CHECK.due(when + "fog by " + seed, all.fog(walker, 17, 9), one.fog(0, 17, 9));
+            CHECK.due(when + "the seed behind " + seed, all.seed(0L), one.seed(0L));
+        }
     }
 }
